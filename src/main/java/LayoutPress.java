@@ -1,0 +1,1342 @@
+import java.util.Arrays;
+
+/**
+ * A pretty printer: documents of nodes, laid out at least cost, greedily or by going through all
+ * layouts, and broken into pages at least cost.
+ */
+public final class LayoutPress {
+    /** There is none. */
+    public static final int NONE = -1;
+
+    private static final int FIRST = 0;
+    private static final int SECOND = 1;
+    private static final int MOST_NODES = 60;
+    private static final int MOST_SIZE = 30;
+    private static final int MOST_WAYS = 30;
+    private static final int MOST_LINES = MOST_SIZE + 1;
+    private static final int MOST_SIGNS = 20;
+    private static final int MOST_COLUMN = 80;
+    private static final int MOST_SHIFT = 20;
+    private static final int MOST_COST = 1000;
+    private static final int MOST_LINE_PRICE = 100;
+    private static final int MOST_HEIGHT = 20;
+    private static final int MOST_COUNTED = 1000000;
+    private static final int MOST_LISTED = 100;
+    private static final int LETTERS = 26;
+    private static final int TABLES = 4;
+    private static final int TABLE_COLUMNS = 5;
+    private static final int LINE_FACTOR = 1000;
+
+    private final Node[] made;
+    private int madeCount;
+    private final Terms terms;
+    private final Search search;
+    private final Hand hand;
+    private final Pages pages;
+    private Sheet printed;
+
+    public LayoutPress() {
+        made = new Node[MOST_NODES];
+        madeCount = 0;
+        terms = new Terms();
+        search = new Search(terms);
+        hand = new Hand(terms);
+        pages = new Pages();
+        printed = new Sheet();
+    }
+
+    // ---- nodes
+
+    public int text(int letter, int count) throws IllegalArgumentException, IllegalStateException {
+        checkRange(letter, 0, LETTERS - 1);
+        checkRange(count, 1, MOST_SIGNS);
+        return add(new Node(Kind.TEXT, letter, count));
+    }
+
+    public int remark(int letter, int count) throws IllegalArgumentException, IllegalStateException {
+        checkRange(letter, 0, LETTERS - 1);
+        checkRange(count, 1, MOST_SIGNS);
+        return add(new Node(Kind.REMARK, letter, count));
+    }
+
+    public int line() throws IllegalStateException {
+        return add(new Node(Kind.LINE, 0, 1));
+    }
+
+    public int soft() throws IllegalStateException {
+        return add(new Node(Kind.SOFT, 0, 0));
+    }
+
+    public int hard() throws IllegalStateException {
+        return add(new Node(Kind.HARD, 0, 0));
+    }
+
+    public int tab(int column) throws IllegalArgumentException, IllegalStateException {
+        checkRange(column, 0, MOST_COLUMN);
+        return add(new Node(Kind.TAB, column, 0));
+    }
+
+    public int pair(int first, int second) throws IndexOutOfBoundsException, IllegalStateException {
+        return add(new Node(Kind.PAIR, 0, nodeOf(first), nodeOf(second)));
+    }
+
+    public int nest(int by, int part)
+            throws IndexOutOfBoundsException, IllegalArgumentException, IllegalStateException {
+        Node inner = nodeOf(part);
+        checkRange(by, -MOST_SHIFT, MOST_SHIFT);
+        return add(new Node(Kind.NEST, by, inner, null));
+    }
+
+    public int align(int part) throws IndexOutOfBoundsException, IllegalStateException {
+        return add(new Node(Kind.ALIGN, 0, nodeOf(part), null));
+    }
+
+    public int group(int part) throws IndexOutOfBoundsException, IllegalStateException {
+        return add(new Node(Kind.GROUP, 0, nodeOf(part), null));
+    }
+
+    public int choice(int first, int second) throws IndexOutOfBoundsException, IllegalStateException {
+        return add(new Node(Kind.CHOICE, 0, nodeOf(first), nodeOf(second)));
+    }
+
+    public int flat(int part) throws IndexOutOfBoundsException, IllegalStateException {
+        return add(new Node(Kind.FLAT, 0, nodeOf(part), null));
+    }
+
+    public int broken(int first, int second) throws IndexOutOfBoundsException, IllegalStateException {
+        return add(new Node(Kind.BROKEN, 0, nodeOf(first), nodeOf(second)));
+    }
+
+    public int price(int cost, int part)
+            throws IndexOutOfBoundsException, IllegalArgumentException, IllegalStateException {
+        Node inner = nodeOf(part);
+        checkRange(cost, 0, MOST_COST);
+        return add(new Node(Kind.PRICE, cost, inner, null));
+    }
+
+    public int keep(int cost, int part)
+            throws IndexOutOfBoundsException, IllegalArgumentException, IllegalStateException {
+        Node inner = nodeOf(part);
+        checkRange(cost, 0, MOST_COST);
+        return add(new Node(Kind.KEEP, cost, inner, null));
+    }
+
+    public int cell(int table, int column, int part)
+            throws IndexOutOfBoundsException, IllegalArgumentException, IllegalStateException {
+        Node inner = nodeOf(part);
+        checkRange(table, 0, TABLES - 1);
+        checkRange(column, 0, TABLE_COLUMNS - 1);
+        if (inner.barred) {
+            throw new IllegalStateException("what is in the part can stand in no cell");
+        }
+        return add(new Node(Kind.CELL, table * TABLE_COLUMNS + column, inner, null));
+    }
+
+    public int nodes() {
+        return madeCount;
+    }
+
+    public int size(int node) throws IndexOutOfBoundsException {
+        return nodeOf(node).leaves;
+    }
+
+    public int layouts(int node) throws IndexOutOfBoundsException {
+        return nodeOf(node).layoutCount;
+    }
+
+    // ---- printing
+
+    public int print(int node, int width, int ribbon, int price)
+            throws IndexOutOfBoundsException, IllegalArgumentException, IllegalStateException {
+        Node root = nodeOf(node);
+        agreeOn(root, width, ribbon, price);
+        if (!search.findBest(root)) {
+            throw new IllegalStateException("all layouts are impossible");
+        }
+        hand.write(root, search.bestWays, search.bestTold);
+        return takeSheet();
+    }
+
+    public int printByAll(int node, int width, int ribbon, int price)
+            throws IndexOutOfBoundsException, IllegalArgumentException, IllegalStateException {
+        Node root = nodeOf(node);
+        agreeOn(root, width, ribbon, price);
+        if (root.layoutCount > MOST_LISTED) {
+            throw new IllegalStateException("there are too many layouts");
+        }
+        if (!hand.writeBestOfAll(root)) {
+            throw new IllegalStateException("all layouts are impossible");
+        }
+        return takeSheet();
+    }
+
+    public int printGreedy(int node, int width, int ribbon, int price)
+            throws IndexOutOfBoundsException, IllegalArgumentException, IllegalStateException {
+        Node root = nodeOf(node);
+        agreeOn(root, width, ribbon, price);
+        if (!hand.writeGreedily(root)) {
+            throw new IllegalStateException("the greedy layout is impossible");
+        }
+        return takeSheet();
+    }
+
+    // ---- what was printed last
+
+    public int lines() {
+        return printed.lineCount;
+    }
+
+    public int length(int line) throws IndexOutOfBoundsException {
+        checkLine(line);
+        return printed.endOf(line);
+    }
+
+    public char signAt(int line, int column) throws IndexOutOfBoundsException {
+        checkColumn(line, column);
+        Node owner = printed.ownerOf(line, column);
+        return owner == null ? ' ' : owner.sign();
+    }
+
+    public int nodeAt(int line, int column) throws IndexOutOfBoundsException {
+        checkColumn(line, column);
+        Node owner = printed.ownerOf(line, column);
+        return owner == null ? NONE : owner.number;
+    }
+
+    public int placeOf(int node) throws IndexOutOfBoundsException {
+        return printed.startOf(nodeOf(node));
+    }
+
+    public int decisions() {
+        return printed.told;
+    }
+
+    public int wayAt(int decision) throws IndexOutOfBoundsException {
+        if (decision < 0 || decision >= printed.told) {
+            throw new IndexOutOfBoundsException("there is no such decision");
+        }
+        return wayIn(printed.ways, decision);
+    }
+
+    // ---- pages
+
+    public int breakPages(int height) throws IllegalArgumentException, IllegalStateException {
+        checkRange(height, 1, MOST_HEIGHT);
+        if (printed.lineCount == 0) {
+            throw new IllegalStateException("nothing was printed");
+        }
+        return pages.breakSheet(printed, height);
+    }
+
+    public int pageOf(int line) throws IndexOutOfBoundsException, IllegalStateException {
+        checkLine(line);
+        if (!pages.areBroken) {
+            throw new IllegalStateException("the lines were not broken into pages");
+        }
+        return pages.pageWith(line);
+    }
+
+    // ---- what the calls share
+
+    private static void checkRange(int value, int least, int most) {
+        if (value < least || value > most) {
+            throw new IllegalArgumentException("an argument is out of its range");
+        }
+    }
+
+    private void checkLine(int line) {
+        if (line < 0 || line >= printed.lineCount) {
+            throw new IndexOutOfBoundsException("there is no such line");
+        }
+    }
+
+    private void checkColumn(int line, int column) {
+        checkLine(line);
+        if (column < 0 || column >= printed.endOf(line)) {
+            throw new IndexOutOfBoundsException("there is no such column");
+        }
+    }
+
+    private Node nodeOf(int node) {
+        if (node < 0 || node >= madeCount || node >= made.length) {
+            throw new IndexOutOfBoundsException("there is no such node");
+        }
+        Node found = made[node];
+        if (found == null) {
+            throw new IndexOutOfBoundsException("there is no such node");
+        }
+        return found;
+    }
+
+    private int add(Node node) {
+        if (madeCount >= made.length) {
+            throw new IllegalStateException("there are as many nodes as there can be");
+        }
+        if (node.leaves > MOST_SIZE || node.mostWays > MOST_WAYS) {
+            throw new IllegalStateException("the node would be too large");
+        }
+        node.take(madeCount);
+        made[madeCount] = node;
+        madeCount++;
+        return node.number;
+    }
+
+    private void agreeOn(Node root, int width, int ribbon, int price) {
+        checkRange(width, 1, MOST_COLUMN);
+        checkRange(ribbon, 1, MOST_COLUMN);
+        checkRange(price, 0, MOST_LINE_PRICE);
+        terms.set(width, ribbon, price);
+        terms.measureCells(made, root);
+    }
+
+    private int takeSheet() {
+        printed = hand.exchange(printed);
+        pages.forget();
+        return (int) terms.costOf(printed);
+    }
+
+    // Ways are bits, the first one highest, so that of two layouts the lesser number is the one
+    // that takes the first way where they first differ.
+    private static int wayBit(int place) {
+        return place < 0 || place >= MOST_WAYS ? 0 : 1 << (MOST_WAYS - 1 - place);
+    }
+
+    private static int wayIn(int ways, int place) {
+        return (ways & wayBit(place)) == 0 ? FIRST : SECOND;
+    }
+
+    /** What nodes there are, and whether one can't be printed flat within a cell. */
+    private enum Kind {
+        TEXT(false), REMARK(true), LINE(false), SOFT(false), HARD(true), TAB(true),
+        PAIR(false), NEST(false), ALIGN(false), GROUP(false), CHOICE(true), FLAT(false),
+        BROKEN(false), PRICE(false), KEEP(false), CELL(true);
+
+        private final boolean notInCells;
+
+        Kind(boolean notInCells) {
+            this.notInCells = notInCells;
+        }
+    }
+
+    /** A node, with what can be told of it before it is printed. */
+    private static final class Node {
+        private final Kind kind;
+        // The letter, column, shift or cost, or which column of which table.
+        private final int value;
+        private final Node first;
+        private final Node second;
+        private int number;
+        private int leaves;
+        // How wide it is when it is printed flat; for TEXT and REMARK how many signs it has.
+        private int flatWidth;
+        // Whether it holds what can't be printed flat within a cell.
+        private boolean barred;
+        private int mostWays;
+        private int mostFlatWays;
+        private int layoutCount;
+        private int flatLayoutCount;
+        // A bit for each node that it is made of, itself included.
+        private long within;
+
+        Node(Kind kind, int value, int flatWidth) {
+            this.kind = kind;
+            this.value = value;
+            this.first = null;
+            this.second = null;
+            this.leaves = 1;
+            this.flatWidth = flatWidth;
+            this.barred = kind.notInCells;
+            this.layoutCount = 1;
+            this.flatLayoutCount = 1;
+        }
+
+        Node(Kind kind, int value, Node first, Node second) {
+            this.kind = kind;
+            this.value = value;
+            this.first = first;
+            this.second = second;
+            if (first != null && second != null) {
+                measureTwo(first, second);
+            } else if (first != null) {
+                measureOne(first);
+            }
+        }
+
+        private void measureOne(Node part) {
+            boolean makesFlat = kind == Kind.FLAT || kind == Kind.CELL;
+            leaves = part.leaves;
+            flatWidth = part.flatWidth;
+            barred = kind.notInCells || part.barred;
+            within = part.within;
+            mostFlatWays = part.mostFlatWays;
+            flatLayoutCount = part.flatLayoutCount;
+            if (kind == Kind.GROUP) {
+                mostWays = 1 + Math.max(part.mostFlatWays, part.mostWays);
+                layoutCount = atMostCounted((long) part.flatLayoutCount + part.layoutCount);
+            } else {
+                mostWays = makesFlat ? part.mostFlatWays : part.mostWays;
+                layoutCount = makesFlat ? part.flatLayoutCount : part.layoutCount;
+            }
+        }
+
+        private void measureTwo(Node one, Node two) {
+            leaves = one.leaves + two.leaves;
+            within = one.within | two.within;
+            if (kind == Kind.PAIR) {
+                flatWidth = one.flatWidth + two.flatWidth;
+                barred = one.barred || two.barred;
+                mostWays = one.mostWays + two.mostWays;
+                mostFlatWays = one.mostFlatWays + two.mostFlatWays;
+                layoutCount = atMostCounted((long) one.layoutCount * two.layoutCount);
+                flatLayoutCount = atMostCounted((long) one.flatLayoutCount * two.flatLayoutCount);
+            } else if (kind == Kind.CHOICE) {
+                barred = true;
+                mostWays = 1 + Math.max(one.mostWays, two.mostWays);
+                mostFlatWays = 1 + Math.max(one.mostFlatWays, two.mostFlatWays);
+                layoutCount = atMostCounted((long) one.layoutCount + two.layoutCount);
+                flatLayoutCount = atMostCounted((long) one.flatLayoutCount + two.flatLayoutCount);
+            } else {
+                flatWidth = two.flatWidth;
+                barred = two.barred;
+                mostWays = one.mostWays;
+                mostFlatWays = two.mostFlatWays;
+                layoutCount = one.layoutCount;
+                flatLayoutCount = two.flatLayoutCount;
+            }
+        }
+
+        private static int atMostCounted(long count) {
+            return count < MOST_COUNTED ? (int) count : MOST_COUNTED;
+        }
+
+        void take(int place) {
+            number = place;
+            within = within | bit();
+        }
+
+        long bit() {
+            return 1L << number;
+        }
+
+        char sign() {
+            return (char) ((kind == Kind.REMARK ? 'A' : 'a') + value);
+        }
+    }
+
+    /** What a printing keeps to: the width, the ribbon, the price of lines, how wide cells are. */
+    private static final class Terms {
+        private int width;
+        private int ribbon;
+        private int linePrice;
+        private final int[] widest;
+
+        Terms() {
+            widest = new int[TABLES * TABLE_COLUMNS];
+        }
+
+        void set(int newWidth, int newRibbon, int newLinePrice) {
+            width = newWidth;
+            ribbon = newRibbon;
+            linePrice = newLinePrice;
+        }
+
+        void measureCells(Node[] all, Node root) {
+            Arrays.fill(widest, 0);
+            for (int i = 0; i < all.length; i++) {
+                Node node = all[i];
+                if (node != null && node.kind == Kind.CELL && (root.within & node.bit()) != 0) {
+                    widen(node);
+                }
+            }
+        }
+
+        private void widen(Node cell) {
+            int column = cell.value;
+            if (column >= 0 && column < widest.length && widest[column] < cell.flatWidth) {
+                widest[column] = cell.flatWidth;
+            }
+        }
+
+        /** How many blanks a cell has behind its part. */
+        int padding(Node cell) {
+            int column = cell.value;
+            return column < 0 || column >= widest.length ? 0 : widest[column] - cell.flatWidth;
+        }
+
+        boolean holds(int start, int end) {
+            return end <= width && (start == NONE || end - start <= ribbon);
+        }
+
+        long lineCost(int start, int end) {
+            long beyondWidth = Math.max(0, end - width);
+            long beyondRibbon = start == NONE ? 0 : Math.max(0, end - start - ribbon);
+            return beyondWidth * beyondWidth + beyondRibbon * beyondRibbon;
+        }
+
+        long costOf(Sheet sheet) {
+            long cost = sheet.prices + (long) linePrice * (sheet.lineCount - 1);
+            for (int line = 0; line < sheet.lineCount; line++) {
+                cost += lineCost(sheet.firstOf(line), sheet.endOf(line));
+            }
+            return cost;
+        }
+    }
+
+    /** The lines of one layout, as they are written from left to right. */
+    private static final class Sheet {
+        // 0 as long as nothing was written.
+        private int lineCount;
+        private int column;
+        private boolean hasRemark;
+        private boolean isImpossible;
+        private long prices;
+        private int ways;
+        private int told;
+        private final int[] firsts;
+        private final int[] ends;
+        // What it costs to end a page behind a line, for the KEEPs.
+        private final int[] cutCosts;
+        private final int[] starts;
+        private int ownerCount;
+        private final Node[] owners;
+        private final int[] ownerLines;
+        private final int[] ownerColumns;
+
+        Sheet() {
+            firsts = new int[MOST_LINES];
+            ends = new int[MOST_LINES];
+            cutCosts = new int[MOST_LINES];
+            starts = new int[MOST_NODES];
+            Arrays.fill(starts, NONE);
+            owners = new Node[MOST_SIZE];
+            ownerLines = new int[MOST_SIZE];
+            ownerColumns = new int[MOST_SIZE];
+        }
+
+        void clear() {
+            lineCount = 0;
+            isImpossible = false;
+            prices = 0;
+            ways = 0;
+            told = 0;
+            ownerCount = 0;
+            Arrays.fill(starts, NONE);
+            beginLine(0);
+        }
+
+        void beginLine(int indentation) {
+            if (lineCount < MOST_LINES) {
+                firsts[lineCount] = NONE;
+                ends[lineCount] = 0;
+                cutCosts[lineCount] = 0;
+                lineCount++;
+            }
+            column = Math.max(0, indentation);
+            hasRemark = false;
+        }
+
+        int present() {
+            return lineCount - 1;
+        }
+
+        void beginNode(Node node) {
+            int at = node.number;
+            if (at >= 0 && at < starts.length && starts[at] == NONE) {
+                starts[at] = LINE_FACTOR * present() + column;
+            }
+        }
+
+        void putSigns(Node node) {
+            int line = present();
+            if (hasRemark) {
+                isImpossible = true;
+            }
+            if (line < 0 || line >= MOST_LINES || ownerCount >= owners.length) {
+                return;
+            }
+            owners[ownerCount] = node;
+            ownerLines[ownerCount] = line;
+            ownerColumns[ownerCount] = column;
+            ownerCount++;
+            if (firsts[line] == NONE) {
+                firsts[line] = column;
+            }
+            column += node.flatWidth;
+            ends[line] = column;
+            hasRemark = node.kind == Kind.REMARK;
+        }
+
+        void putBlanks(int count) {
+            column += count;
+        }
+
+        void putTab(int goal) {
+            column = Math.max(goal, column + 1);
+        }
+
+        void keepTogether(int fromLine, int cost) {
+            for (int line = Math.max(0, fromLine); line < lineCount - 1 && line < MOST_LINES; line++) {
+                cutCosts[line] += cost;
+            }
+        }
+
+        void tell(int way) {
+            if (way == SECOND) {
+                ways = ways | wayBit(told);
+            }
+            told++;
+        }
+
+        int firstOf(int line) {
+            return line < 0 || line >= lineCount || line >= firsts.length ? NONE : firsts[line];
+        }
+
+        int endOf(int line) {
+            return line < 0 || line >= lineCount || line >= ends.length ? 0 : ends[line];
+        }
+
+        int cutCostOf(int line) {
+            return line < 0 || line >= lineCount || line >= cutCosts.length ? 0 : cutCosts[line];
+        }
+
+        int startOf(Node node) {
+            int at = node.number;
+            return at < 0 || at >= starts.length ? NONE : starts[at];
+        }
+
+        /** The node whose sign is at a place, or null. */
+        Node ownerOf(int line, int place) {
+            for (int i = 0; i < ownerCount && i < owners.length; i++) {
+                Node owner = owners[i];
+                int behind = place - ownerColumns[i];
+                if (owner != null && ownerLines[i] == line && behind >= 0 && behind < owner.flatWidth) {
+                    return owner;
+                }
+            }
+            return null;
+        }
+    }
+
+    /** Writes one layout at a time on a sheet of its own. */
+    private static final class Hand {
+        private final Terms terms;
+        private Sheet sheet;
+        // The ways that are settled, how many, and which way all later places take.
+        private int plan;
+        private int planned;
+        private int laterWay;
+        // Writing stops at the first line end behind this place.
+        private int watched;
+        private boolean hasStopped;
+
+        Hand(Terms terms) {
+            this.terms = terms;
+            this.sheet = new Sheet();
+        }
+
+        /** Hands out the sheet that was written, and takes another one for the next time. */
+        Sheet exchange(Sheet other) {
+            Sheet written = sheet;
+            sheet = other;
+            return written;
+        }
+
+        void write(Node root, int ways, int count) {
+            layOut(root, ways, count, FIRST, NONE);
+        }
+
+        private void layOut(Node root, int ways, int count, int later, int watchedPlace) {
+            plan = ways;
+            planned = count;
+            laterWay = later;
+            watched = watchedPlace;
+            hasStopped = false;
+            sheet.clear();
+            put(root, false, 0, 0);
+        }
+
+        /** Whether there is a layout that is not impossible; if so, the best one is written. */
+        boolean writeBestOfAll(Node root) {
+            boolean found = false;
+            long bestCost = 0;
+            int bestLines = 0;
+            int bestWays = 0;
+            int bestTold = 0;
+            int ways = 0;
+            int settled = 0;
+            for (int turn = 0; turn < MOST_LISTED; turn++) {
+                layOut(root, ways, settled, FIRST, NONE);
+                long cost = terms.costOf(sheet);
+                boolean isLess = !found || cost < bestCost
+                        || cost == bestCost && sheet.lineCount < bestLines;
+                if (!sheet.isImpossible && isLess) {
+                    found = true;
+                    bestCost = cost;
+                    bestLines = sheet.lineCount;
+                    bestWays = sheet.ways;
+                    bestTold = sheet.told;
+                }
+                int turned = lastFirstWay();
+                if (turned == NONE) {
+                    break;
+                }
+                // The ways behind the turned one are all second ones: they begin anew.
+                ways = (sheet.ways & -wayBit(turned)) | wayBit(turned);
+                settled = turned + 1;
+            }
+            if (found) {
+                write(root, bestWays, bestTold);
+            }
+            return found;
+        }
+
+        private int lastFirstWay() {
+            for (int place = sheet.told - 1; place >= 0; place--) {
+                if (wayIn(sheet.ways, place) == FIRST) {
+                    return place;
+                }
+            }
+            return NONE;
+        }
+
+        /** Whether the greedy layout is not impossible; it is written then. */
+        boolean writeGreedily(Node root) {
+            int ways = 0;
+            for (int place = 0; place <= MOST_WAYS; place++) {
+                layOut(root, ways, place + 1, SECOND, place);
+                if (sheet.told <= place) {
+                    break;
+                }
+                if (sheet.isImpossible || !presentLineFits()) {
+                    ways = ways | wayBit(place);
+                }
+            }
+            return !sheet.isImpossible;
+        }
+
+        private boolean presentLineFits() {
+            int line = sheet.present();
+            return terms.holds(sheet.firstOf(line), sheet.endOf(line));
+        }
+
+        private int decide() {
+            int way = sheet.told < planned ? wayIn(plan, sheet.told) : laterWay;
+            sheet.tell(way);
+            return way;
+        }
+
+        private void endLine(int indentation) {
+            if (watched != NONE && sheet.told > watched) {
+                hasStopped = true;
+            } else {
+                sheet.beginLine(indentation);
+            }
+        }
+
+        private void put(Node node, boolean flat, int indentation, int depth) {
+            if (node == null || hasStopped || depth >= MOST_NODES) {
+                return;
+            }
+            sheet.beginNode(node);
+            switch (node.kind) {
+                case PAIR:
+                    put(node.first, flat, indentation, depth + 1);
+                    put(node.second, flat, indentation, depth + 1);
+                    break;
+                case NEST:
+                    put(node.first, flat, indentation + node.value, depth + 1);
+                    break;
+                case ALIGN:
+                    put(node.first, flat, sheet.column, depth + 1);
+                    break;
+                case GROUP:
+                    put(node.first, flat || decide() == FIRST, indentation, depth + 1);
+                    break;
+                case CHOICE:
+                    put(decide() == FIRST ? node.first : node.second, flat, indentation, depth + 1);
+                    break;
+                case FLAT:
+                    put(node.first, true, indentation, depth + 1);
+                    break;
+                case BROKEN:
+                    put(flat ? node.second : node.first, flat, indentation, depth + 1);
+                    break;
+                case PRICE:
+                    sheet.prices += node.value;
+                    put(node.first, flat, indentation, depth + 1);
+                    break;
+                case KEEP:
+                    int line = sheet.present();
+                    put(node.first, flat, indentation, depth + 1);
+                    sheet.keepTogether(line, node.value);
+                    break;
+                case CELL:
+                    put(node.first, true, indentation, depth + 1);
+                    sheet.putBlanks(terms.padding(node));
+                    break;
+                default:
+                    putLeaf(node, flat, indentation);
+                    break;
+            }
+        }
+
+        private void putLeaf(Node node, boolean flat, int indentation) {
+            switch (node.kind) {
+                case TEXT:
+                    sheet.putSigns(node);
+                    break;
+                case TAB:
+                    sheet.putTab(node.value);
+                    break;
+                case REMARK:
+                    if (flat) {
+                        sheet.isImpossible = true;
+                    } else {
+                        sheet.putSigns(node);
+                    }
+                    break;
+                default:
+                    putLineEnd(node, flat, indentation);
+                    break;
+            }
+        }
+
+        private void putLineEnd(Node node, boolean flat, int indentation) {
+            if (!flat) {
+                endLine(indentation);
+            } else if (node.kind == Kind.HARD) {
+                sheet.isImpossible = true;
+            } else {
+                sheet.putBlanks(node.flatWidth);
+            }
+        }
+    }
+
+    /**
+     * Printings that have come to the same place of a document, as rows of a stack. Of those from
+     * which all goes on alike, the best one alone is kept.
+     */
+    private static final class States {
+        private static final int FEW = 32;
+        private static final int MANY = 1024;
+
+        private int top;
+        // From which entry of the innermost ALIGN it comes, and at which column that begins.
+        private int[] entry;
+        private int[] base;
+        private int[] column;
+        private int[] first;
+        private int[] end;
+        private int[] hasRemark;
+        private long[] cost;
+        private int[] lineEnds;
+        private int[] ways;
+        private int[] told;
+        // Which state was kept for the one that stood here when states were merged last.
+        private int[] keptAs;
+        // The entry that a state gave, the first state that comes from an entry, the next such one.
+        private int[] given;
+        private int[] head;
+        private int[] next;
+        private int[] slots;
+
+        States() {
+            entry = new int[FEW];
+            base = new int[FEW];
+            column = new int[FEW];
+            first = new int[FEW];
+            end = new int[FEW];
+            hasRemark = new int[FEW];
+            cost = new long[FEW];
+            lineEnds = new int[FEW];
+            ways = new int[FEW];
+            told = new int[FEW];
+            keptAs = new int[FEW];
+            given = new int[FEW];
+            head = new int[FEW];
+            next = new int[FEW];
+            slots = new int[2 * FEW];
+        }
+
+        /** Begins with one state: the beginning of a document. */
+        void begin() {
+            top = 1;
+            entry[0] = 0;
+            base[0] = 0;
+            column[0] = 0;
+            first[0] = NONE;
+            end[0] = 0;
+            hasRemark[0] = 0;
+            beginValue(0);
+        }
+
+        private void beginValue(int at) {
+            cost[at] = 0;
+            lineEnds[at] = 0;
+            ways[at] = 0;
+            told[at] = 0;
+        }
+
+        private void makeRoom(int more) {
+            int wanted = top + more;
+            if (wanted <= entry.length) {
+                return;
+            }
+            int length = Math.max(wanted, 2 * entry.length);
+            entry = Arrays.copyOf(entry, length);
+            base = Arrays.copyOf(base, length);
+            column = Arrays.copyOf(column, length);
+            first = Arrays.copyOf(first, length);
+            end = Arrays.copyOf(end, length);
+            hasRemark = Arrays.copyOf(hasRemark, length);
+            cost = Arrays.copyOf(cost, length);
+            lineEnds = Arrays.copyOf(lineEnds, length);
+            ways = Arrays.copyOf(ways, length);
+            told = Arrays.copyOf(told, length);
+            keptAs = Arrays.copyOf(keptAs, length);
+            given = Arrays.copyOf(given, length);
+            head = Arrays.copyOf(head, length);
+            next = Arrays.copyOf(next, length);
+        }
+
+        private void copyState(int from, int to) {
+            if (from == to) {
+                return;
+            }
+            entry[to] = entry[from];
+            base[to] = base[from];
+            column[to] = column[from];
+            first[to] = first[from];
+            end[to] = end[from];
+            hasRemark[to] = hasRemark[from];
+            copyValue(from, to);
+        }
+
+        private void copyValue(int from, int to) {
+            cost[to] = cost[from];
+            lineEnds[to] = lineEnds[from];
+            ways[to] = ways[from];
+            told[to] = told[from];
+        }
+
+        /** Drops the states from one on in whose line no sign can stand any more. */
+        void dropRemarked(int from) {
+            int kept = from;
+            for (int i = from; i < top; i++) {
+                if (hasRemark[i] == 0) {
+                    copyState(i, kept);
+                    kept++;
+                }
+            }
+            top = kept;
+        }
+
+        /** Puts copies of the states from one up to another one on top. */
+        void repeat(int from, int until) {
+            makeRoom(until - from);
+            for (int i = from; i < until; i++) {
+                copyState(i, top);
+                top++;
+            }
+        }
+
+        /** Puts all states from one on where others were. */
+        void slide(int from, int to) {
+            int target = to;
+            for (int i = from; i < top; i++) {
+                copyState(i, target);
+                target++;
+            }
+            top = target;
+        }
+
+        void tell(int from, int way) {
+            for (int i = from; i < top; i++) {
+                if (way == SECOND) {
+                    ways[i] = ways[i] | wayBit(told[i]);
+                }
+                told[i]++;
+            }
+        }
+
+        /** Keeps, of the states from one on, the best one of those that are alike. */
+        void merge(int from) {
+            int slotCount = clearSlots(top - from);
+            int kept = from;
+            for (int i = from; i < top; i++) {
+                int slot = slotOf(i, slotCount);
+                int same = slots[slot] - 1;
+                if (same < from) {
+                    copyState(i, kept);
+                    slots[slot] = kept + 1;
+                    keptAs[i] = kept;
+                    kept++;
+                } else {
+                    keptAs[i] = same;
+                    if (isBetter(i, same)) {
+                        copyValue(i, same);
+                    }
+                }
+            }
+            top = kept;
+        }
+
+        private int clearSlots(int count) {
+            int slotCount = 2;
+            while (slotCount < 2 * count) {
+                slotCount = 2 * slotCount;
+            }
+            if (slotCount > slots.length) {
+                slots = new int[slotCount];
+            } else {
+                Arrays.fill(slots, 0, slotCount, 0);
+            }
+            return slotCount;
+        }
+
+        /** The slot of a state that is like this one, or else an empty one. */
+        private int slotOf(int at, int slotCount) {
+            int mixed = entry[at];
+            mixed = mixed * 31 + column[at];
+            mixed = mixed * 31 + first[at];
+            mixed = mixed * 31 + end[at];
+            mixed = mixed * 0x9E3779B1 + hasRemark[at];
+            int slot = (mixed ^ (mixed >>> 15)) & (slotCount - 1);
+            for (int probe = 0; probe < slotCount; probe++) {
+                int other = slots[slot] - 1;
+                if (other < 0 || isAlike(at, other)) {
+                    break;
+                }
+                slot = (slot + 1) & (slotCount - 1);
+            }
+            return slot;
+        }
+
+        private boolean isAlike(int one, int other) {
+            return column[one] == column[other] && entry[one] == entry[other]
+                    && first[one] == first[other] && end[one] == end[other]
+                    && hasRemark[one] == hasRemark[other];
+        }
+
+        boolean isBetter(int one, int other) {
+            if (cost[one] != cost[other]) {
+                return cost[one] < cost[other];
+            }
+            if (lineEnds[one] != lineEnds[other]) {
+                return lineEnds[one] < lineEnds[other];
+            }
+            return ways[one] < ways[other];
+        }
+
+        /**
+         * Puts on top the different entries at which the states from one on come into an ALIGN,
+         * so that within it nothing is done twice for states that differ in what was before.
+         */
+        void enterAlign(int from) {
+            int until = top;
+            repeat(from, until);
+            for (int i = until; i < top; i++) {
+                entry[i] = 0;
+                base[i] = column[i];
+                beginValue(i);
+            }
+            merge(until);
+            for (int i = from; i < until; i++) {
+                given[i] = keptAs[until + i - from] - until;
+            }
+            for (int i = until; i < top; i++) {
+                entry[i] = i - until;
+            }
+        }
+
+        /** Joins the states that entered an ALIGN, from one on, and those that left it above them. */
+        void leaveAlign(int from, int until) {
+            int middle = top;
+            listByEntry(from, until);
+            int limit = MANY;
+            for (int i = from; i < until; i++) {
+                int left = from + given[i] < until ? head[from + given[i]] : NONE;
+                for (int step = until; step < middle && left != NONE; step++) {
+                    joinOne(i, left);
+                    left = next[left];
+                }
+                if (top - middle > limit) {
+                    merge(middle);
+                    limit = MANY + 2 * (top - middle);
+                }
+            }
+            merge(middle);
+            slide(middle, from);
+        }
+
+        private void listByEntry(int from, int until) {
+            for (int i = from; i < until; i++) {
+                head[i] = NONE;
+            }
+            for (int i = until; i < top; i++) {
+                int at = from + entry[i];
+                if (at < until) {
+                    next[i] = head[at];
+                    head[at] = i;
+                }
+            }
+        }
+
+        private void joinOne(int entered, int left) {
+            makeRoom(1);
+            copyState(left, top);
+            entry[top] = entry[entered];
+            base[top] = base[entered];
+            cost[top] += cost[entered];
+            lineEnds[top] += lineEnds[entered];
+            ways[top] = ways[entered] | (ways[left] >>> told[entered]);
+            told[top] += told[entered];
+            top++;
+        }
+    }
+
+    /** Finds the best layout, all layouts side by side, from the left to the right. */
+    private static final class Search {
+        private final Terms terms;
+        private final States states;
+        private int bestWays;
+        private int bestTold;
+
+        Search(Terms terms) {
+            this.terms = terms;
+            this.states = new States();
+        }
+
+        /** Whether there is a layout that is not impossible; the best one's ways are kept then. */
+        boolean findBest(Node root) {
+            states.begin();
+            advance(root, false, 0, 0, 0);
+            for (int i = 0; i < states.top; i++) {
+                states.cost[i] += terms.lineCost(states.first[i], states.end[i]);
+            }
+            if (states.top == 0) {
+                return false;
+            }
+            int best = 0;
+            for (int i = 1; i < states.top; i++) {
+                if (states.isBetter(i, best)) {
+                    best = i;
+                }
+            }
+            bestWays = states.ways[best];
+            bestTold = states.told[best];
+            return true;
+        }
+
+        /** Takes the states from one on through a node; the shift is that of the NESTs around it. */
+        private void advance(Node node, boolean flat, int shift, int from, int depth) {
+            if (node == null || states.top <= from || depth >= MOST_NODES) {
+                return;
+            }
+            switch (node.kind) {
+                case PAIR:
+                    advance(node.first, flat, shift, from, depth + 1);
+                    advance(node.second, flat, shift, from, depth + 1);
+                    break;
+                case NEST:
+                    advance(node.first, flat, shift + node.value, from, depth + 1);
+                    break;
+                case ALIGN:
+                    advanceAlign(node, flat, from, depth);
+                    break;
+                case GROUP:
+                case CHOICE:
+                    fork(node, flat, shift, from, depth);
+                    break;
+                case FLAT:
+                    advance(node.first, true, shift, from, depth + 1);
+                    break;
+                case BROKEN:
+                    advance(flat ? node.second : node.first, flat, shift, from, depth + 1);
+                    break;
+                case PRICE:
+                    pay(node.value, from);
+                    advance(node.first, flat, shift, from, depth + 1);
+                    break;
+                case KEEP:
+                    advance(node.first, flat, shift, from, depth + 1);
+                    break;
+                case CELL:
+                    advance(node.first, true, shift, from, depth + 1);
+                    putBlanks(terms.padding(node), from);
+                    break;
+                default:
+                    advanceLeaf(node, flat, shift, from);
+                    break;
+            }
+        }
+
+        private void advanceAlign(Node node, boolean flat, int from, int depth) {
+            if (flat) {
+                advance(node.first, true, 0, from, depth + 1);
+                return;
+            }
+            int until = states.top;
+            states.enterAlign(from);
+            advance(node.first, false, 0, until, depth + 1);
+            states.leaveAlign(from, until);
+        }
+
+        private void fork(Node node, boolean flat, int shift, int from, int depth) {
+            boolean isGroup = node.kind == Kind.GROUP;
+            if (isGroup && flat) {
+                advance(node.first, true, shift, from, depth + 1);
+                return;
+            }
+            int until = states.top;
+            states.repeat(from, until);
+            states.tell(until, FIRST);
+            advance(node.first, flat || isGroup, shift, until, depth + 1);
+            int middle = states.top;
+            states.repeat(from, until);
+            states.tell(middle, SECOND);
+            advance(isGroup ? node.first : node.second, flat, shift, middle, depth + 1);
+            states.merge(until);
+            states.slide(until, from);
+        }
+
+        private void pay(int cost, int from) {
+            for (int i = from; i < states.top; i++) {
+                states.cost[i] += cost;
+            }
+        }
+
+        private void advanceLeaf(Node node, boolean flat, int shift, int from) {
+            switch (node.kind) {
+                case TEXT:
+                    putSigns(node, from);
+                    break;
+                case TAB:
+                    putTab(node.value, from);
+                    break;
+                case REMARK:
+                    if (flat) {
+                        states.top = from;
+                    } else {
+                        putSigns(node, from);
+                    }
+                    break;
+                default:
+                    if (!flat) {
+                        endLines(shift, from);
+                    } else if (node.kind == Kind.HARD) {
+                        states.top = from;
+                    } else {
+                        putBlanks(node.flatWidth, from);
+                    }
+                    break;
+            }
+        }
+
+        private void putSigns(Node node, int from) {
+            int remark = node.kind == Kind.REMARK ? 1 : 0;
+            states.dropRemarked(from);
+            for (int i = from; i < states.top; i++) {
+                if (states.first[i] == NONE) {
+                    states.first[i] = states.column[i];
+                }
+                states.column[i] += node.flatWidth;
+                states.end[i] = states.column[i];
+                states.hasRemark[i] = remark;
+            }
+            states.merge(from);
+        }
+
+        private void putBlanks(int count, int from) {
+            for (int i = from; i < states.top; i++) {
+                states.column[i] += count;
+            }
+        }
+
+        private void putTab(int goal, int from) {
+            for (int i = from; i < states.top; i++) {
+                states.column[i] = Math.max(goal, states.column[i] + 1);
+            }
+            states.merge(from);
+        }
+
+        private void endLines(int shift, int from) {
+            for (int i = from; i < states.top; i++) {
+                states.cost[i] += terms.linePrice + terms.lineCost(states.first[i], states.end[i]);
+                states.lineEnds[i]++;
+                states.column[i] = Math.max(0, states.base[i] + shift);
+                states.first[i] = NONE;
+                states.end[i] = 0;
+                states.hasRemark[i] = 0;
+            }
+            states.merge(from);
+        }
+    }
+
+    /** The pages of a sheet. */
+    private static final class Pages {
+        private boolean areBroken;
+        private final int[] pageOfLine;
+        // Of the lines from one on: what they cost, on how many pages, and how many on the first.
+        private final int[] cost;
+        private final int[] count;
+        private final int[] firstHeight;
+
+        Pages() {
+            pageOfLine = new int[MOST_LINES];
+            cost = new int[MOST_LINES + 1];
+            count = new int[MOST_LINES + 1];
+            firstHeight = new int[MOST_LINES + 1];
+        }
+
+        void forget() {
+            areBroken = false;
+        }
+
+        int pageWith(int line) {
+            return line < 0 || line >= pageOfLine.length ? NONE : pageOfLine[line];
+        }
+
+        int breakSheet(Sheet sheet, int height) {
+            int lineCount = Math.min(sheet.lineCount, MOST_LINES);
+            cost[lineCount] = 0;
+            count[lineCount] = 0;
+            for (int line = lineCount - 1; line >= 0; line--) {
+                choosePage(sheet, line, lineCount, height);
+            }
+            numberLines(lineCount);
+            areBroken = true;
+            return cost[0];
+        }
+
+        private void choosePage(Sheet sheet, int line, int lineCount, int height) {
+            firstHeight[line] = 0;
+            for (int lines = Math.min(height, lineCount - line); lines > 0; lines--) {
+                int behind = line + lines;
+                int free = height - lines;
+                int pageCost = behind == lineCount ? 0 : free * free + sheet.cutCostOf(behind - 1);
+                int newCost = pageCost + cost[behind];
+                int newCount = 1 + count[behind];
+                boolean isLess = newCost < cost[line] || newCost == cost[line] && newCount < count[line];
+                if (firstHeight[line] == 0 || isLess) {
+                    cost[line] = newCost;
+                    count[line] = newCount;
+                    firstHeight[line] = lines;
+                }
+            }
+        }
+
+        private void numberLines(int lineCount) {
+            int page = -1;
+            int left = 0;
+            for (int line = 0; line < lineCount; line++) {
+                if (left == 0) {
+                    page++;
+                    left = firstHeight[line];
+                }
+                pageOfLine[line] = page;
+                left--;
+            }
+        }
+    }
+}
