@@ -331,6 +331,8 @@ public final class LayoutPress {
         private int flatWidth;
         // Whether it holds what can't be printed flat within a cell.
         private boolean barred;
+        // Whether it can end a line, not printed flat, with the indentation that it is given.
+        private boolean indents;
         private int mostWays;
         private int mostFlatWays;
         private int layoutCount;
@@ -346,6 +348,7 @@ public final class LayoutPress {
             this.leaves = 1;
             this.flatWidth = flatWidth;
             this.barred = kind.notInCells;
+            this.indents = kind == Kind.LINE || kind == Kind.SOFT || kind == Kind.HARD;
             this.layoutCount = 1;
             this.flatLayoutCount = 1;
         }
@@ -367,6 +370,7 @@ public final class LayoutPress {
             leaves = part.leaves;
             flatWidth = part.flatWidth;
             barred = kind.notInCells || part.barred;
+            indents = !makesFlat && kind != Kind.ALIGN && part.indents;
             within = part.within;
             mostFlatWays = part.mostFlatWays;
             flatLayoutCount = part.flatLayoutCount;
@@ -382,6 +386,7 @@ public final class LayoutPress {
         private void measureTwo(Node one, Node two) {
             leaves = one.leaves + two.leaves;
             within = one.within | two.within;
+            indents = one.indents || kind != Kind.BROKEN && two.indents;
             if (kind == Kind.PAIR) {
                 flatWidth = one.flatWidth + two.flatWidth;
                 barred = one.barred || two.barred;
@@ -818,12 +823,9 @@ public final class LayoutPress {
      */
     private static final class States {
         private static final int FEW = 32;
-        private static final int MANY = 1024;
 
         private int top;
-        // From which entry of the innermost ALIGN it comes, and at which column that begins.
-        private int[] entry;
-        private int[] base;
+        private int[] scope;
         private int[] column;
         private int[] first;
         private int[] end;
@@ -832,17 +834,17 @@ public final class LayoutPress {
         private int[] lineEnds;
         private int[] ways;
         private int[] told;
-        // Which state was kept for the one that stood here when states were merged last.
-        private int[] keptAs;
-        // The entry that a state gave, the first state that comes from an entry, the next such one.
-        private int[] given;
-        private int[] head;
-        private int[] next;
+        // A scope is where an ALIGN sets the indentation: its column, NONE if that does not matter
+        // any more, and the scope around it. Scope 0 is the document itself.
+        private int scopeCount;
+        private int[] base;
+        private int[] outer;
         private int[] slots;
+        // The next state of those that are at the same place.
+        private int[] next;
 
         States() {
-            entry = new int[FEW];
-            base = new int[FEW];
+            scope = new int[FEW];
             column = new int[FEW];
             first = new int[FEW];
             end = new int[FEW];
@@ -851,40 +853,36 @@ public final class LayoutPress {
             lineEnds = new int[FEW];
             ways = new int[FEW];
             told = new int[FEW];
-            keptAs = new int[FEW];
-            given = new int[FEW];
-            head = new int[FEW];
-            next = new int[FEW];
+            base = new int[FEW];
+            outer = new int[FEW];
             slots = new int[2 * FEW];
+            next = new int[FEW];
         }
 
         /** Begins with one state: the beginning of a document. */
         void begin() {
             top = 1;
-            entry[0] = 0;
-            base[0] = 0;
+            scope[0] = 0;
             column[0] = 0;
             first[0] = NONE;
             end[0] = 0;
             hasRemark[0] = 0;
-            beginValue(0);
-        }
-
-        private void beginValue(int at) {
-            cost[at] = 0;
-            lineEnds[at] = 0;
-            ways[at] = 0;
-            told[at] = 0;
+            cost[0] = 0;
+            lineEnds[0] = 0;
+            ways[0] = 0;
+            told[0] = 0;
+            scopeCount = 1;
+            base[0] = 0;
+            outer[0] = 0;
         }
 
         private void makeRoom(int more) {
             int wanted = top + more;
-            if (wanted <= entry.length) {
+            if (wanted <= scope.length) {
                 return;
             }
-            int length = Math.max(wanted, 2 * entry.length);
-            entry = Arrays.copyOf(entry, length);
-            base = Arrays.copyOf(base, length);
+            int length = Math.max(wanted, 2 * scope.length);
+            scope = Arrays.copyOf(scope, length);
             column = Arrays.copyOf(column, length);
             first = Arrays.copyOf(first, length);
             end = Arrays.copyOf(end, length);
@@ -893,9 +891,6 @@ public final class LayoutPress {
             lineEnds = Arrays.copyOf(lineEnds, length);
             ways = Arrays.copyOf(ways, length);
             told = Arrays.copyOf(told, length);
-            keptAs = Arrays.copyOf(keptAs, length);
-            given = Arrays.copyOf(given, length);
-            head = Arrays.copyOf(head, length);
             next = Arrays.copyOf(next, length);
         }
 
@@ -903,16 +898,11 @@ public final class LayoutPress {
             if (from == to) {
                 return;
             }
-            entry[to] = entry[from];
-            base[to] = base[from];
+            scope[to] = scope[from];
             column[to] = column[from];
             first[to] = first[from];
             end[to] = end[from];
             hasRemark[to] = hasRemark[from];
-            copyValue(from, to);
-        }
-
-        private void copyValue(int from, int to) {
             cost[to] = cost[from];
             lineEnds[to] = lineEnds[from];
             ways[to] = ways[from];
@@ -929,6 +919,20 @@ public final class LayoutPress {
                 }
             }
             top = kept;
+        }
+
+        /** Drops the states from one on that cost more than this; answers whether there were any. */
+        boolean dropAbove(int from, long limit) {
+            int kept = from;
+            for (int i = from; i < top; i++) {
+                if (cost[i] <= limit) {
+                    copyState(i, kept);
+                    kept++;
+                }
+            }
+            boolean hasDropped = kept < top;
+            top = kept;
+            return hasDropped;
         }
 
         /** Puts copies of the states from one up to another one on top. */
@@ -959,26 +963,47 @@ public final class LayoutPress {
             }
         }
 
-        /** Keeps, of the states from one on, the best one of those that are alike. */
+        /** Drops, of the states from one on, those that go on no better than another one. */
         void merge(int from) {
+            if (top - from < 2) {
+                return;
+            }
             int slotCount = clearSlots(top - from);
             int kept = from;
             for (int i = from; i < top; i++) {
-                int slot = slotOf(i, slotCount);
-                int same = slots[slot] - 1;
-                if (same < from) {
+                int slot = slotOfPlace(i, slotCount);
+                int head = slots[slot] - 1;
+                if (head < from || !isSettled(i, head, kept - from)) {
                     copyState(i, kept);
+                    next[kept] = head;
                     slots[slot] = kept + 1;
-                    keptAs[i] = kept;
                     kept++;
-                } else {
-                    keptAs[i] = same;
-                    if (isBetter(i, same)) {
-                        copyValue(i, same);
-                    }
                 }
             }
             top = kept;
+        }
+
+        /** Whether one of the kept states at the same place makes this one needless, or gives way. */
+        private boolean isSettled(int at, int head, int most) {
+            int other = head;
+            for (int step = 0; step < most && other >= 0; step++) {
+                if (covers(other, at)) {
+                    return true;
+                }
+                if (covers(at, other)) {
+                    copyState(at, other);
+                    return true;
+                }
+                other = next[other];
+            }
+            return false;
+        }
+
+        /** Whether, however two states at the same place go on, the one comes out better. */
+        private boolean covers(int one, int other) {
+            return end[one] <= end[other] && hasRemark[one] <= hasRemark[other]
+                    && (first[one] == NONE || first[other] != NONE && first[one] >= first[other])
+                    && isBetter(one, other);
         }
 
         private int clearSlots(int count) {
@@ -994,28 +1019,22 @@ public final class LayoutPress {
             return slotCount;
         }
 
-        /** The slot of a state that is like this one, or else an empty one. */
-        private int slotOf(int at, int slotCount) {
-            int mixed = entry[at];
-            mixed = mixed * 31 + column[at];
-            mixed = mixed * 31 + first[at];
-            mixed = mixed * 31 + end[at];
-            mixed = mixed * 0x9E3779B1 + hasRemark[at];
-            int slot = (mixed ^ (mixed >>> 15)) & (slotCount - 1);
+        private static int mix(int sum, int next) {
+            int mixed = (sum ^ next) * 0x9E3779B1;
+            return mixed ^ (mixed >>> 15);
+        }
+
+        /** The slot of the states that are at the place of this one, or else an empty one. */
+        private int slotOfPlace(int at, int slotCount) {
+            int slot = mix(scope[at], column[at]) & (slotCount - 1);
             for (int probe = 0; probe < slotCount; probe++) {
                 int other = slots[slot] - 1;
-                if (other < 0 || isAlike(at, other)) {
+                if (other < 0 || column[at] == column[other] && scope[at] == scope[other]) {
                     break;
                 }
                 slot = (slot + 1) & (slotCount - 1);
             }
             return slot;
-        }
-
-        private boolean isAlike(int one, int other) {
-            return column[one] == column[other] && entry[one] == entry[other]
-                    && first[one] == first[other] && end[one] == end[other]
-                    && hasRemark[one] == hasRemark[other];
         }
 
         boolean isBetter(int one, int other) {
@@ -1028,95 +1047,117 @@ public final class LayoutPress {
             return ways[one] < ways[other];
         }
 
-        /**
-         * Puts on top the different entries at which the states from one on come into an ALIGN,
-         * so that within it nothing is done twice for states that differ in what was before.
-         */
-        void enterAlign(int from) {
-            int until = top;
-            repeat(from, until);
-            for (int i = until; i < top; i++) {
-                entry[i] = 0;
-                base[i] = column[i];
-                beginValue(i);
-            }
-            merge(until);
-            for (int i = from; i < until; i++) {
-                given[i] = keptAs[until + i - from] - until;
-            }
-            for (int i = until; i < top; i++) {
-                entry[i] = i - until;
+        int baseOf(int state) {
+            int at = scope[state];
+            return at < 0 || at >= base.length ? 0 : base[at];
+        }
+
+        /** Takes the states from one on into an ALIGN. */
+        void enterScopes(int from) {
+            int slotCount = clearSlots(top - from);
+            for (int i = from; i < top; i++) {
+                scope[i] = scopeWith(column[i], scope[i], slotCount);
             }
         }
 
-        /** Joins the states that entered an ALIGN, from one on, and those that left it above them. */
-        void leaveAlign(int from, int until) {
-            int middle = top;
-            listByEntry(from, until);
-            int limit = MANY;
-            for (int i = from; i < until; i++) {
-                int left = from + given[i] < until ? head[from + given[i]] : NONE;
-                for (int step = until; step < middle && left != NONE; step++) {
-                    joinOne(i, left);
-                    left = next[left];
-                }
-                if (top - middle > limit) {
-                    merge(middle);
-                    limit = MANY + 2 * (top - middle);
-                }
+        /** Takes the states from one on out of an ALIGN, ahead of which there were so many scopes. */
+        void leaveScopes(int from, int scopesBefore) {
+            for (int i = from; i < top; i++) {
+                scope[i] = outer[scope[i]];
             }
-            merge(middle);
-            slide(middle, from);
+            scopeCount = scopesBefore;
+            merge(from);
         }
 
-        private void listByEntry(int from, int until) {
-            for (int i = from; i < until; i++) {
-                head[i] = NONE;
-            }
-            for (int i = until; i < top; i++) {
-                int at = from + entry[i];
-                if (at < until) {
-                    next[i] = head[at];
-                    head[at] = i;
+        /** Makes the states from one on alike that differ only in where their ALIGN begins. */
+        void forgetBases(int from) {
+            int slotCount = clearSlots(top - from);
+            for (int i = from; i < top; i++) {
+                if (base[scope[i]] != NONE) {
+                    scope[i] = scopeWith(NONE, outer[scope[i]], slotCount);
                 }
             }
         }
 
-        private void joinOne(int entered, int left) {
-            makeRoom(1);
-            copyState(left, top);
-            entry[top] = entry[entered];
-            base[top] = base[entered];
-            cost[top] += cost[entered];
-            lineEnds[top] += lineEnds[entered];
-            ways[top] = ways[entered] | (ways[left] >>> told[entered]);
-            told[top] += told[entered];
-            top++;
+        private int scopeWith(int newBase, int around, int slotCount) {
+            int slot = mix(around, newBase) & (slotCount - 1);
+            for (int probe = 0; probe < slotCount; probe++) {
+                int other = slots[slot] - 1;
+                if (other < 0) {
+                    break;
+                }
+                if (base[other] == newBase && outer[other] == around) {
+                    return other;
+                }
+                slot = (slot + 1) & (slotCount - 1);
+            }
+            if (scopeCount >= base.length) {
+                base = Arrays.copyOf(base, 2 * base.length);
+                outer = Arrays.copyOf(outer, 2 * outer.length);
+            }
+            base[scopeCount] = newBase;
+            outer[scopeCount] = around;
+            scopeCount++;
+            slots[slot] = scopeCount;
+            return scopeCount - 1;
         }
     }
 
     /** Finds the best layout, all layouts side by side, from the left to the right. */
     private static final class Search {
+        private static final long FIRST_LIMIT = 15;
+        // No layout costs as much as the limit of the last one of so many turns.
+        private static final int MOST_TURNS = 28;
+
         private final Terms terms;
         private final States states;
         private int bestWays;
         private int bestTold;
+        private long limit;
+        private boolean hasDropped;
 
         Search(Terms terms) {
             this.terms = terms;
             this.states = new States();
         }
 
-        /** Whether there is a layout that is not impossible; the best one's ways are kept then. */
+        /**
+         * Whether there is a layout that is not impossible; the best one's ways are kept then.
+         * Most states cost far more than the best layout, so it is looked for below a low limit
+         * first, and below higher ones until it is there, or nothing was dropped for its cost.
+         */
         boolean findBest(Node root) {
+            limit = FIRST_LIMIT;
+            for (int turn = 0; turn < MOST_TURNS; turn++) {
+                advanceAll(root);
+                if (states.top > 0 || !hasDropped) {
+                    break;
+                }
+                limit = 4 * limit + 3;
+            }
+            if (states.top > 0) {
+                keepBest();
+            }
+            return states.top > 0;
+        }
+
+        private void advanceAll(Node root) {
+            hasDropped = false;
             states.begin();
-            advance(root, false, 0, 0, 0);
+            advance(root, false, 0, true, 0, 0);
             for (int i = 0; i < states.top; i++) {
                 states.cost[i] += terms.lineCost(states.first[i], states.end[i]);
             }
-            if (states.top == 0) {
-                return false;
+            dropCostly(0);
+        }
+
+        private void dropCostly(int from) {
+            if (states.dropAbove(from, limit)) {
+                hasDropped = true;
             }
+        }
+
+        private void keepBest() {
             int best = 0;
             for (int i = 1; i < states.top; i++) {
                 if (states.isBetter(i, best)) {
@@ -1125,77 +1166,84 @@ public final class LayoutPress {
             }
             bestWays = states.ways[best];
             bestTold = states.told[best];
-            return true;
         }
 
-        /** Takes the states from one on through a node; the shift is that of the NESTs around it. */
-        private void advance(Node node, boolean flat, int shift, int from, int depth) {
+        /**
+         * Takes the states from one on through a node. The shift is that of the NESTs around it;
+         * the indentation is needed if a line end behind the node can still come back to it.
+         */
+        private void advance(Node node, boolean flat, int shift, boolean needed, int from, int depth) {
             if (node == null || states.top <= from || depth >= MOST_NODES) {
                 return;
             }
             switch (node.kind) {
                 case PAIR:
-                    advance(node.first, flat, shift, from, depth + 1);
-                    advance(node.second, flat, shift, from, depth + 1);
+                    boolean neededBehind = needed || !flat && node.second != null && node.second.indents;
+                    advance(node.first, flat, shift, neededBehind, from, depth + 1);
+                    advance(node.second, flat, shift, needed, from, depth + 1);
                     break;
                 case NEST:
-                    advance(node.first, flat, shift + node.value, from, depth + 1);
+                    advance(node.first, flat, shift + node.value, needed, from, depth + 1);
                     break;
                 case ALIGN:
-                    advanceAlign(node, flat, from, depth);
+                    advanceAlign(node, flat, needed, from, depth);
                     break;
                 case GROUP:
                 case CHOICE:
-                    fork(node, flat, shift, from, depth);
+                    fork(node, flat, shift, needed, from, depth);
                     break;
                 case FLAT:
-                    advance(node.first, true, shift, from, depth + 1);
+                    advance(node.first, true, shift, needed, from, depth + 1);
                     break;
                 case BROKEN:
-                    advance(flat ? node.second : node.first, flat, shift, from, depth + 1);
+                    advance(flat ? node.second : node.first, flat, shift, needed, from, depth + 1);
                     break;
                 case PRICE:
                     pay(node.value, from);
-                    advance(node.first, flat, shift, from, depth + 1);
+                    advance(node.first, flat, shift, needed, from, depth + 1);
                     break;
                 case KEEP:
-                    advance(node.first, flat, shift, from, depth + 1);
+                    advance(node.first, flat, shift, needed, from, depth + 1);
                     break;
                 case CELL:
-                    advance(node.first, true, shift, from, depth + 1);
+                    advance(node.first, true, shift, needed, from, depth + 1);
                     putBlanks(terms.padding(node), from);
                     break;
                 default:
-                    advanceLeaf(node, flat, shift, from);
+                    advanceLeaf(node, flat, shift, needed, from);
                     break;
             }
         }
 
-        private void advanceAlign(Node node, boolean flat, int from, int depth) {
-            if (flat) {
-                advance(node.first, true, 0, from, depth + 1);
+        private void advanceAlign(Node node, boolean flat, boolean needed, int from, int depth) {
+            Node part = node.first;
+            if (flat || part == null || !part.indents) {
+                advance(part, flat, 0, needed, from, depth + 1);
                 return;
             }
-            int until = states.top;
-            states.enterAlign(from);
-            advance(node.first, false, 0, until, depth + 1);
-            states.leaveAlign(from, until);
+            int scopesBefore = states.scopeCount;
+            states.enterScopes(from);
+            advance(part, false, 0, false, from, depth + 1);
+            states.leaveScopes(from, scopesBefore);
         }
 
-        private void fork(Node node, boolean flat, int shift, int from, int depth) {
+        private void fork(Node node, boolean flat, int shift, boolean needed, int from, int depth) {
             boolean isGroup = node.kind == Kind.GROUP;
             if (isGroup && flat) {
-                advance(node.first, true, shift, from, depth + 1);
+                advance(node.first, true, shift, needed, from, depth + 1);
                 return;
             }
             int until = states.top;
             states.repeat(from, until);
             states.tell(until, FIRST);
-            advance(node.first, flat || isGroup, shift, until, depth + 1);
+            advance(node.first, flat || isGroup, shift, needed, until, depth + 1);
             int middle = states.top;
             states.repeat(from, until);
             states.tell(middle, SECOND);
-            advance(isGroup ? node.first : node.second, flat, shift, middle, depth + 1);
+            advance(isGroup ? node.first : node.second, flat, shift, needed, middle, depth + 1);
+            if (!flat && !needed && node.indents) {
+                states.forgetBases(until);
+            }
             states.merge(until);
             states.slide(until, from);
         }
@@ -1204,9 +1252,10 @@ public final class LayoutPress {
             for (int i = from; i < states.top; i++) {
                 states.cost[i] += cost;
             }
+            dropCostly(from);
         }
 
-        private void advanceLeaf(Node node, boolean flat, int shift, int from) {
+        private void advanceLeaf(Node node, boolean flat, int shift, boolean needed, int from) {
             switch (node.kind) {
                 case TEXT:
                     putSigns(node, from);
@@ -1223,7 +1272,7 @@ public final class LayoutPress {
                     break;
                 default:
                     if (!flat) {
-                        endLines(shift, from);
+                        endLines(shift, needed, from);
                     } else if (node.kind == Kind.HARD) {
                         states.top = from;
                     } else {
@@ -1260,14 +1309,18 @@ public final class LayoutPress {
             states.merge(from);
         }
 
-        private void endLines(int shift, int from) {
+        private void endLines(int shift, boolean needed, int from) {
             for (int i = from; i < states.top; i++) {
                 states.cost[i] += terms.linePrice + terms.lineCost(states.first[i], states.end[i]);
                 states.lineEnds[i]++;
-                states.column[i] = Math.max(0, states.base[i] + shift);
+                states.column[i] = Math.max(0, states.baseOf(i) + shift);
                 states.first[i] = NONE;
                 states.end[i] = 0;
                 states.hasRemark[i] = 0;
+            }
+            dropCostly(from);
+            if (!needed) {
+                states.forgetBases(from);
             }
             states.merge(from);
         }
