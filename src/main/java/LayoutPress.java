@@ -305,16 +305,23 @@ public final class LayoutPress {
         return (ways & wayBit(place)) == 0 ? FIRST : SECOND;
     }
 
-    /** What nodes there are, and whether one can't be printed flat within a cell. */
+    /** What nodes there are: whether one can stand in no cell, and whether it can't be flat at all. */
     private enum Kind {
-        TEXT(false), REMARK(true), LINE(false), SOFT(false), HARD(true), TAB(true),
-        PAIR(false), NEST(false), ALIGN(false), GROUP(false), CHOICE(true), FLAT(false),
-        BROKEN(false), PRICE(false), KEEP(false), CELL(true);
+        TEXT(false, false), REMARK(true, true), LINE(false, false), SOFT(false, false),
+        HARD(true, true), TAB(true, false), PAIR(false, false), NEST(false, false),
+        ALIGN(false, false), GROUP(false, false), CHOICE(true, false), FLAT(false, false),
+        BROKEN(false, false), PRICE(false, false), KEEP(false, false), CELL(true, false);
 
         private final boolean notInCells;
+        private final boolean neverFlat;
 
-        Kind(boolean notInCells) {
+        Kind(boolean notInCells, boolean neverFlat) {
             this.notInCells = notInCells;
+            this.neverFlat = neverFlat;
+        }
+
+        boolean endsLine() {
+            return this == LINE || this == SOFT || this == HARD;
         }
     }
 
@@ -348,7 +355,7 @@ public final class LayoutPress {
             this.leaves = 1;
             this.flatWidth = flatWidth;
             this.barred = kind.notInCells;
-            this.indents = kind == Kind.LINE || kind == Kind.SOFT || kind == Kind.HARD;
+            this.indents = kind.endsLine();
             this.layoutCount = 1;
             this.flatLayoutCount = 1;
         }
@@ -690,7 +697,7 @@ public final class LayoutPress {
                 settled = turned + 1;
             }
             if (found) {
-                write(root, bestWays, bestTold);
+                layOut(root, bestWays, bestTold, FIRST, NONE);
             }
             return found;
         }
@@ -786,33 +793,16 @@ public final class LayoutPress {
         }
 
         private void putLeaf(Node node, boolean flat, int indentation) {
-            switch (node.kind) {
-                case TEXT:
-                    sheet.putSigns(node);
-                    break;
-                case TAB:
-                    sheet.putTab(node.value);
-                    break;
-                case REMARK:
-                    if (flat) {
-                        sheet.isImpossible = true;
-                    } else {
-                        sheet.putSigns(node);
-                    }
-                    break;
-                default:
-                    putLineEnd(node, flat, indentation);
-                    break;
-            }
-        }
-
-        private void putLineEnd(Node node, boolean flat, int indentation) {
-            if (!flat) {
-                endLine(indentation);
-            } else if (node.kind == Kind.HARD) {
+            if (flat && node.kind.neverFlat) {
                 sheet.isImpossible = true;
-            } else {
+            } else if (node.kind == Kind.TAB) {
+                sheet.putTab(node.value);
+            } else if (!node.kind.endsLine()) {
+                sheet.putSigns(node);
+            } else if (flat) {
                 sheet.putBlanks(node.flatWidth);
+            } else {
+                endLine(indentation);
             }
         }
     }
@@ -823,8 +813,11 @@ public final class LayoutPress {
      */
     private static final class States {
         private static final int FEW = 32;
+        private static final int MOST_SLOT_BITS = 28;
 
         private int top;
+        // Whether one was dropped for its cost.
+        private boolean hasDropped;
         private int[] scope;
         private int[] column;
         private int[] first;
@@ -862,6 +855,7 @@ public final class LayoutPress {
         /** Begins with one state: the beginning of a document. */
         void begin() {
             top = 1;
+            hasDropped = false;
             scope[0] = 0;
             column[0] = 0;
             first[0] = NONE;
@@ -921,18 +915,18 @@ public final class LayoutPress {
             top = kept;
         }
 
-        /** Drops the states from one on that cost more than this; answers whether there were any. */
-        boolean dropAbove(int from, long limit) {
+        /** Drops the states from one on that cost more than the limit. */
+        void dropAbove(long limit, int from) {
             int kept = from;
             for (int i = from; i < top; i++) {
                 if (cost[i] <= limit) {
                     copyState(i, kept);
                     kept++;
+                } else {
+                    hasDropped = true;
                 }
             }
-            boolean hasDropped = kept < top;
             top = kept;
-            return hasDropped;
         }
 
         /** Puts copies of the states from one up to another one on top. */
@@ -987,10 +981,11 @@ public final class LayoutPress {
         private boolean isSettled(int at, int head, int most) {
             int other = head;
             for (int step = 0; step < most && other >= 0; step++) {
-                if (covers(other, at)) {
+                boolean isOtherBetter = isBetter(other, at);
+                if (isOtherBetter && goesOnNoWorse(other, at)) {
                     return true;
                 }
-                if (covers(at, other)) {
+                if (!isOtherBetter && goesOnNoWorse(at, other)) {
                     copyState(at, other);
                     return true;
                 }
@@ -999,16 +994,15 @@ public final class LayoutPress {
             return false;
         }
 
-        /** Whether, however two states at the same place go on, the one comes out better. */
-        private boolean covers(int one, int other) {
+        /** Whether, of two states at the same place, what follows costs the one no more in any case. */
+        private boolean goesOnNoWorse(int one, int other) {
             return end[one] <= end[other] && hasRemark[one] <= hasRemark[other]
-                    && (first[one] == NONE || first[other] != NONE && first[one] >= first[other])
-                    && isBetter(one, other);
+                    && (first[one] == NONE || first[other] != NONE && first[one] >= first[other]);
         }
 
         private int clearSlots(int count) {
             int slotCount = 2;
-            while (slotCount < 2 * count) {
+            for (int bits = 1; bits < MOST_SLOT_BITS && slotCount < 2 * count; bits++) {
                 slotCount = 2 * slotCount;
             }
             if (slotCount > slots.length) {
@@ -1052,6 +1046,11 @@ public final class LayoutPress {
             return at < 0 || at >= base.length ? 0 : base[at];
         }
 
+        private int outerOf(int state) {
+            int at = scope[state];
+            return at < 0 || at >= outer.length ? 0 : outer[at];
+        }
+
         /** Takes the states from one on into an ALIGN. */
         void enterScopes(int from) {
             int slotCount = clearSlots(top - from);
@@ -1063,7 +1062,7 @@ public final class LayoutPress {
         /** Takes the states from one on out of an ALIGN, ahead of which there were so many scopes. */
         void leaveScopes(int from, int scopesBefore) {
             for (int i = from; i < top; i++) {
-                scope[i] = outer[scope[i]];
+                scope[i] = outerOf(i);
             }
             scopeCount = scopesBefore;
             merge(from);
@@ -1073,8 +1072,8 @@ public final class LayoutPress {
         void forgetBases(int from) {
             int slotCount = clearSlots(top - from);
             for (int i = from; i < top; i++) {
-                if (base[scope[i]] != NONE) {
-                    scope[i] = scopeWith(NONE, outer[scope[i]], slotCount);
+                if (baseOf(i) != NONE) {
+                    scope[i] = scopeWith(NONE, outerOf(i), slotCount);
                 }
             }
         }
@@ -1114,7 +1113,6 @@ public final class LayoutPress {
         private int bestWays;
         private int bestTold;
         private long limit;
-        private boolean hasDropped;
 
         Search(Terms terms) {
             this.terms = terms;
@@ -1129,8 +1127,10 @@ public final class LayoutPress {
         boolean findBest(Node root) {
             limit = FIRST_LIMIT;
             for (int turn = 0; turn < MOST_TURNS; turn++) {
-                advanceAll(root);
-                if (states.top > 0 || !hasDropped) {
+                states.begin();
+                advance(root, false, 0, true, 0, 0);
+                endLastLines();
+                if (states.top > 0 || !states.hasDropped) {
                     break;
                 }
                 limit = 4 * limit + 3;
@@ -1141,20 +1141,11 @@ public final class LayoutPress {
             return states.top > 0;
         }
 
-        private void advanceAll(Node root) {
-            hasDropped = false;
-            states.begin();
-            advance(root, false, 0, true, 0, 0);
+        private void endLastLines() {
             for (int i = 0; i < states.top; i++) {
                 states.cost[i] += terms.lineCost(states.first[i], states.end[i]);
             }
-            dropCostly(0);
-        }
-
-        private void dropCostly(int from) {
-            if (states.dropAbove(from, limit)) {
-                hasDropped = true;
-            }
+            states.dropAbove(limit, 0);
         }
 
         private void keepBest() {
@@ -1252,39 +1243,30 @@ public final class LayoutPress {
             for (int i = from; i < states.top; i++) {
                 states.cost[i] += cost;
             }
-            dropCostly(from);
+            states.dropAbove(limit, from);
         }
 
         private void advanceLeaf(Node node, boolean flat, int shift, boolean needed, int from) {
-            switch (node.kind) {
-                case TEXT:
-                    putSigns(node, from);
-                    break;
-                case TAB:
-                    putTab(node.value, from);
-                    break;
-                case REMARK:
-                    if (flat) {
-                        states.top = from;
-                    } else {
-                        putSigns(node, from);
-                    }
-                    break;
-                default:
-                    if (!flat) {
-                        endLines(shift, needed, from);
-                    } else if (node.kind == Kind.HARD) {
-                        states.top = from;
-                    } else {
-                        putBlanks(node.flatWidth, from);
-                    }
-                    break;
+            if (flat && node.kind.neverFlat) {
+                states.top = from;
+            } else if (node.kind == Kind.TAB) {
+                putTab(node.value, from);
+            } else if (!node.kind.endsLine()) {
+                states.dropRemarked(from);
+                putSigns(node, from);
+            } else if (flat) {
+                putBlanks(node.flatWidth, from);
+            } else {
+                endLines(shift, from);
+                if (!needed) {
+                    states.forgetBases(from);
+                }
             }
+            states.merge(from);
         }
 
         private void putSigns(Node node, int from) {
             int remark = node.kind == Kind.REMARK ? 1 : 0;
-            states.dropRemarked(from);
             for (int i = from; i < states.top; i++) {
                 if (states.first[i] == NONE) {
                     states.first[i] = states.column[i];
@@ -1293,7 +1275,6 @@ public final class LayoutPress {
                 states.end[i] = states.column[i];
                 states.hasRemark[i] = remark;
             }
-            states.merge(from);
         }
 
         private void putBlanks(int count, int from) {
@@ -1306,10 +1287,9 @@ public final class LayoutPress {
             for (int i = from; i < states.top; i++) {
                 states.column[i] = Math.max(goal, states.column[i] + 1);
             }
-            states.merge(from);
         }
 
-        private void endLines(int shift, boolean needed, int from) {
+        private void endLines(int shift, int from) {
             for (int i = from; i < states.top; i++) {
                 states.cost[i] += terms.linePrice + terms.lineCost(states.first[i], states.end[i]);
                 states.lineEnds[i]++;
@@ -1318,11 +1298,7 @@ public final class LayoutPress {
                 states.end[i] = 0;
                 states.hasRemark[i] = 0;
             }
-            dropCostly(from);
-            if (!needed) {
-                states.forgetBases(from);
-            }
-            states.merge(from);
+            states.dropAbove(limit, from);
         }
     }
 
