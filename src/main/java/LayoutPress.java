@@ -814,17 +814,19 @@ public final class LayoutPress {
     private static final class States {
         private static final int FEW = 32;
         private static final int MOST_SLOT_BITS = 28;
+        // More than there can be line ends.
+        private static final int COST_WEIGHT = MOST_LINES + 1;
 
         private int top;
-        // Whether one was dropped for its cost.
+        // Whether one was dropped for its weight.
         private boolean hasDropped;
         private int[] scope;
         private int[] column;
         private int[] first;
         private int[] end;
         private int[] hasRemark;
-        private long[] cost;
-        private int[] lineEnds;
+        // Its cost, and behind that its line ends, so that the lesser weight is the better one.
+        private long[] weight;
         private int[] ways;
         private int[] told;
         // A scope is where an ALIGN sets the indentation: its column, NONE if that does not matter
@@ -842,8 +844,7 @@ public final class LayoutPress {
             first = new int[FEW];
             end = new int[FEW];
             hasRemark = new int[FEW];
-            cost = new long[FEW];
-            lineEnds = new int[FEW];
+            weight = new long[FEW];
             ways = new int[FEW];
             told = new int[FEW];
             base = new int[FEW];
@@ -861,8 +862,7 @@ public final class LayoutPress {
             first[0] = NONE;
             end[0] = 0;
             hasRemark[0] = 0;
-            cost[0] = 0;
-            lineEnds[0] = 0;
+            weight[0] = 0;
             ways[0] = 0;
             told[0] = 0;
             scopeCount = 1;
@@ -881,8 +881,7 @@ public final class LayoutPress {
             first = Arrays.copyOf(first, length);
             end = Arrays.copyOf(end, length);
             hasRemark = Arrays.copyOf(hasRemark, length);
-            cost = Arrays.copyOf(cost, length);
-            lineEnds = Arrays.copyOf(lineEnds, length);
+            weight = Arrays.copyOf(weight, length);
             ways = Arrays.copyOf(ways, length);
             told = Arrays.copyOf(told, length);
             next = Arrays.copyOf(next, length);
@@ -897,8 +896,7 @@ public final class LayoutPress {
             first[to] = first[from];
             end[to] = end[from];
             hasRemark[to] = hasRemark[from];
-            cost[to] = cost[from];
-            lineEnds[to] = lineEnds[from];
+            weight[to] = weight[from];
             ways[to] = ways[from];
             told[to] = told[from];
         }
@@ -915,11 +913,11 @@ public final class LayoutPress {
             top = kept;
         }
 
-        /** Drops the states from one on that cost more than the limit. */
+        /** Drops the states from one on whose weight is above the limit. */
         void dropAbove(long limit, int from) {
             int kept = from;
             for (int i = from; i < top; i++) {
-                if (cost[i] <= limit) {
+                if (weight[i] <= limit) {
                     copyState(i, kept);
                     kept++;
                 } else {
@@ -1031,12 +1029,17 @@ public final class LayoutPress {
             return slot;
         }
 
+        void addCost(int at, long cost) {
+            weight[at] += COST_WEIGHT * cost;
+        }
+
+        void addLineEnd(int at) {
+            weight[at]++;
+        }
+
         boolean isBetter(int one, int other) {
-            if (cost[one] != cost[other]) {
-                return cost[one] < cost[other];
-            }
-            if (lineEnds[one] != lineEnds[other]) {
-                return lineEnds[one] < lineEnds[other];
+            if (weight[one] != weight[other]) {
+                return weight[one] < weight[other];
             }
             return ways[one] < ways[other];
         }
@@ -1104,9 +1107,8 @@ public final class LayoutPress {
 
     /** Finds the best layout, all layouts side by side, from the left to the right. */
     private static final class Search {
-        private static final long FIRST_LIMIT = 15;
-        // No layout costs as much as the limit of the last one of so many turns.
-        private static final int MOST_TURNS = 28;
+        // No layout weighs as much as the limit of the last one of so many turns.
+        private static final int MOST_TURNS = 18;
 
         private final Terms terms;
         private final States states;
@@ -1121,11 +1123,11 @@ public final class LayoutPress {
 
         /**
          * Whether there is a layout that is not impossible; the best one's ways are kept then.
-         * Most states cost far more than the best layout, so it is looked for below a low limit
-         * first, and below higher ones until it is there, or nothing was dropped for its cost.
+         * Most states weigh far more than the best layout, so it is looked for below a low limit
+         * first, and below higher ones until it is there, or nothing was dropped for its weight.
          */
         boolean findBest(Node root) {
-            limit = FIRST_LIMIT;
+            limit = 0;
             for (int turn = 0; turn < MOST_TURNS; turn++) {
                 states.begin();
                 advance(root, false, 0, true, 0, 0);
@@ -1133,7 +1135,7 @@ public final class LayoutPress {
                 if (states.top > 0 || !states.hasDropped) {
                     break;
                 }
-                limit = 4 * limit + 3;
+                limit = 8 * limit + 7;
             }
             if (states.top > 0) {
                 keepBest();
@@ -1143,7 +1145,7 @@ public final class LayoutPress {
 
         private void endLastLines() {
             for (int i = 0; i < states.top; i++) {
-                states.cost[i] += terms.lineCost(states.first[i], states.end[i]);
+                states.addCost(i, terms.lineCost(states.first[i], states.end[i]));
             }
             states.dropAbove(limit, 0);
         }
@@ -1241,7 +1243,7 @@ public final class LayoutPress {
 
         private void pay(int cost, int from) {
             for (int i = from; i < states.top; i++) {
-                states.cost[i] += cost;
+                states.addCost(i, cost);
             }
             states.dropAbove(limit, from);
         }
@@ -1291,8 +1293,8 @@ public final class LayoutPress {
 
         private void endLines(int shift, int from) {
             for (int i = from; i < states.top; i++) {
-                states.cost[i] += terms.linePrice + terms.lineCost(states.first[i], states.end[i]);
-                states.lineEnds[i]++;
+                states.addCost(i, terms.linePrice + terms.lineCost(states.first[i], states.end[i]));
+                states.addLineEnd(i);
                 states.column[i] = Math.max(0, states.baseOf(i) + shift);
                 states.first[i] = NONE;
                 states.end[i] = 0;
