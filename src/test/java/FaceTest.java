@@ -35,7 +35,34 @@ public final class FaceTest {
         Check.sameText("members", found.toString(), due.toString());
         int modifiers = LayoutPress.class.getModifiers();
         Check.that("public and final", Modifier.isPublic(modifiers) && Modifier.isFinal(modifiers));
+        checkInside();
         Check.end();
+    }
+
+    // No private method bears the name of a public one; a class has some twenty fields.
+    private static void checkInside() {
+        TreeSet<String> names = new TreeSet<>();
+        for (Method method : LayoutPress.class.getDeclaredMethods()) {
+            if (Modifier.isPublic(method.getModifiers())) {
+                names.add(method.getName());
+            }
+        }
+        for (Method method : LayoutPress.class.getDeclaredMethods()) {
+            Check.that("a name of its own: " + method,
+                    Modifier.isPublic(method.getModifiers()) || !names.contains(method.getName()));
+        }
+        for (Class<?> inside : LayoutPress.class.getDeclaredClasses()) {
+            Check.that("private and static: " + inside,
+                    Modifier.isPrivate(inside.getModifiers()) && Modifier.isStatic(inside.getModifiers()));
+            for (Method method : inside.getDeclaredMethods()) {
+                Check.that("a name of its own: " + method, !names.contains(method.getName()));
+            }
+            int fields = 0;
+            for (Field field : inside.getDeclaredFields()) {
+                fields += Modifier.isStatic(field.getModifiers()) ? 0 : 1;
+            }
+            Check.that(inside + " has " + fields + " fields", fields <= 20);
+        }
     }
 
     private static void addFound(TreeSet<String> found, int modifiers, boolean synthetic, String text) {

@@ -24,7 +24,9 @@ public final class NodesTest {
         sizes();
         layoutCounts();
         tooLargeByWays();
-        fullObject();
+        tooLargeByChoices();
+        deepNodes();
+        farIndentations();
         Check.end();
     }
 
@@ -511,24 +513,80 @@ public final class NodesTest {
         Check.same("a way each", press.decisions(), 1);
     }
 
-    private static void fullObject() {
+    private static void tooLargeByChoices() {
         LayoutPress press = new LayoutPress();
         int text = press.text(0, 1);
-        int deep = text;
-        while (press.nodes() < 60) {
-            deep = press.nest(20, deep);
+        int choices = text;
+        for (int i = 0; i < 5; i++) {
+            choices = press.choice(text, choices);
         }
-        press.print(deep, 80, 80, 0);
-        Check.sameText("59 nests", Answers.lines(press), "|a");
-        Check.same("print of a deep node by all", press.printByAll(deep, 80, 80, 0), 0);
-        Check.same("print of a deep node greedily", press.printGreedy(deep, 80, 80, 0), 0);
+        Check.same("groups around five choices", groupsAround(press, choices), 25);
         LayoutPress other = new LayoutPress();
-        int part = other.pair(other.hard(), other.text(0, 1));
-        while (other.nodes() < 60) {
-            part = other.nest(20, part);
+        int leaf = other.text(0, 1);
+        int two = other.choice(other.choice(leaf, leaf), leaf);
+        int flatFour = other.broken(leaf, other.pair(two, two));
+        Check.same("groups around four flat choices", groupsAround(other, flatFour), 26);
+        LayoutPress third = new LayoutPress();
+        int end = third.line();
+        int one = third.choice(third.group(third.group(end)), end);
+        Check.same("groups around a choice of groups", groupsAround(third, one), 27);
+    }
+
+    private static int groupsAround(LayoutPress press, int part) {
+        int node = part;
+        int groups = 0;
+        while (true) {
+            try {
+                node = press.group(node);
+                groups++;
+            } catch (IllegalStateException e) {
+                return groups;
+            }
         }
-        other.print(part, 80, 80, 0);
-        Check.same("57 nests of 20", other.length(1), 1141);
-        Check.same("place beyond 1000", other.placeOf(1), 2140);
+    }
+
+    // As many nodes around one as there can be, of each kind that has one part
+    private static void deepNodes() {
+        for (int kind = 0; kind < 5; kind++) {
+            LayoutPress press = new LayoutPress();
+            int deep = press.text(0, 1);
+            while (press.nodes() < 60) {
+                deep = switch (kind) {
+                    case 0 -> press.nest(20, deep);
+                    case 1 -> press.align(deep);
+                    case 2 -> press.flat(deep);
+                    case 3 -> press.price(1, deep);
+                    default -> press.keep(1, deep);
+                };
+            }
+            int cost = kind == 3 ? 59 : 0;
+            Check.same("print of a deep node " + kind, press.print(deep, 80, 80, 0), cost);
+            Check.sameText("a deep node " + kind, Answers.lines(press), "|a");
+            Check.same("a deep node by all " + kind, press.printByAll(deep, 80, 80, 0), cost);
+            Check.sameText("a deep node by all " + kind, Answers.lines(press), "|a");
+            Check.same("a deep node greedily " + kind, press.printGreedy(deep, 80, 80, 0), cost);
+            Check.sameText("a deep node greedily " + kind, Answers.lines(press), "|a");
+        }
+    }
+
+    private static void farIndentations() {
+        LayoutPress press = new LayoutPress();
+        int part = press.pair(press.hard(), press.text(0, 1));
+        while (press.nodes() < 60) {
+            part = press.nest(20, part);
+        }
+        press.print(part, 80, 80, 0);
+        Check.same("57 nests of 20", press.length(1), 1141);
+        Check.same("a place beyond 1000", press.placeOf(1), 2140);
+        Check.same("a far sign", press.signAt(1, 1140), 'a');
+        Check.same("a far blank", press.signAt(1, 1139), ' ');
+        LayoutPress other = new LayoutPress();
+        int below = other.pair(other.hard(), other.text(0, 1));
+        for (int i = 0; i < 50; i++) {
+            below = other.nest(i < 25 ? 20 : -20, below);
+        }
+        other.print(below, 80, 80, 0);
+        Check.same("far below and back", other.length(1), 1);
+        Check.same("what a far line costs", other.print(other.nest(20, below), 1, 80, 0), 400);
     }
 }

@@ -21,6 +21,7 @@ public final class PrintingTest {
         bestByCost();
         bestByLineEnds();
         bestByWays();
+        blanksCountInCosts();
         manyLayouts();
         hundredLayouts();
         greedyWidth();
@@ -171,6 +172,29 @@ public final class PrintingTest {
         press.print(late, 80, 80, 0);
         Check.same("the first place counts", press.wayAt(0), 0);
         Check.same("two ways", press.decisions(), 2);
+    }
+
+    // The cost that print() looks for is the one that it comes to: tabs, cells and flat lines
+    private static void blanksCountInCosts() {
+        LayoutPress press = new LayoutPress();
+        int text = press.text(0, 4);
+        int[] gaps = {press.tab(0), press.tab(5), press.flat(press.line()), press.cell(0, 0, press.flat(press.line()))};
+        for (int gap : gaps) {
+            int row = press.pair(text, press.pair(gap, text));
+            for (int cost = 0; cost < 3; cost++) {
+                int choice = press.choice(press.price(cost, text), row);
+                Check.same("price " + cost + " or a gap " + gap, press.print(choice, 8, 80, 0), Math.min(cost, 1));
+                Check.same("way by " + cost + " or a gap " + gap, press.wayAt(0), cost < 2 ? 0 : 1);
+            }
+        }
+        int padded = press.cell(1, 1, text);
+        int wide = press.cell(1, 1, press.text(2, 6));
+        int table = press.pair(press.broken(padded, wide), text);
+        int table2 = press.choice(press.price(3, text), table);
+        Check.same("a price or a padded cell", press.print(table2, 8, 80, 0), 3);
+        Check.same("the price", press.wayAt(0), 0);
+        Check.same("a price or a cell padded less", press.print(table2, 9, 80, 0), 1);
+        Check.same("the cell", press.wayAt(0), 1);
     }
 
     private static void manyLayouts() {

@@ -10,7 +10,11 @@ public final class RandomTest {
     private final Reference reference = new Reference();
     private final int[] weights = new int[KINDS.length];
 
-    private RandomTest(long seed) {
+    // Dense documents have many layouts in which the indentations, the columns and the costs differ.
+    private final boolean dense;
+
+    private RandomTest(long seed, boolean dense) {
+        this.dense = dense;
         random = new Random(seed);
         name = "seed " + seed + " ";
     }
@@ -19,7 +23,7 @@ public final class RandomTest {
         int count = arguments.length > 0 ? Integer.parseInt(arguments[0]) : 3000;
         int first = arguments.length > 1 ? Integer.parseInt(arguments[1]) : 0;
         for (int seed = first; seed < first + count; seed++) {
-            new RandomTest(seed).run();
+            new RandomTest(seed, seed % 10 == 0).run();
         }
         Check.end();
     }
@@ -32,7 +36,10 @@ public final class RandomTest {
         weights[Reference.Kind.PAIR.ordinal()] += 6;
         weights[Reference.Kind.REMARK.ordinal()] = random.nextInt(3) == 0 ? 1 : 0;
         weights[Reference.Kind.HARD.ordinal()] = random.nextInt(3) == 0 ? 1 : 0;
-        int calls = 8 + random.nextInt(45);
+        if (dense) {
+            thicken(Reference.Kind.ALIGN, Reference.Kind.GROUP, Reference.Kind.LINE, Reference.Kind.CHOICE);
+        }
+        int calls = dense ? 30 + random.nextInt(31) : 8 + random.nextInt(45);
         for (int i = 0; i < calls; i++) {
             make();
         }
@@ -42,8 +49,14 @@ public final class RandomTest {
             double count = Math.min(1000000, reference.count(node, false));
             Check.same(name + "layouts " + node, press.layouts(node), (long) count);
         }
-        for (int i = 0; i < 6; i++) {
+        for (int i = 0; i < (dense ? 3 : 6); i++) {
             printAll(press.nodes() - 1 - (i < 3 ? i : random.nextInt(press.nodes())));
+        }
+    }
+
+    private void thicken(Reference.Kind... kinds) {
+        for (Reference.Kind kind : kinds) {
+            weights[kind.ordinal()] += 3;
         }
     }
 
@@ -141,12 +154,12 @@ public final class RandomTest {
         int price = random.nextInt(random.nextBoolean() ? 101 : 4);
         String what = name + "node " + node + " by " + width + " " + ribbon + " " + price + " ";
         double count = reference.count(node, false);
-        if (count <= 2000) {
+        if (count <= (dense ? 20000 : 2000)) {
             Reference.Printout best = reference.best(node, width, ribbon, price);
             compare(what + "print", best, width, ribbon, price, () -> press.print(node, width, ribbon, price));
             compare(what + "printByAll", count > 100 ? null : best, width, ribbon, price,
                     () -> press.printByAll(node, width, ribbon, price));
-        } else {
+        } else if (count > 100) {
             Check.failsState(what + "printByAll", () -> press.printByAll(node, width, ribbon, price));
         }
         compare(what + "printGreedy", reference.greedy(node, width, ribbon), width, ribbon, price,

@@ -17,6 +17,7 @@ public final class RoomTest {
         measure("choices of widths", 1000000, RoomTest::choicesOfWidths);
         measure("aligned choices", 1000000, RoomTest::alignedChoices);
         measure("nested groups", 1000000, RoomTest::nestedGroups);
+        measure("groups of choices in aligns", 4000000, RoomTest::groupsOfChoicesInAligns);
         Check.end();
     }
 
@@ -92,5 +93,18 @@ public final class RoomTest {
                 break;
             }
         }
+    }
+
+    // Found by looking for documents with many states: 882816 layouts
+    private static void groupsOfChoicesInAligns(LayoutPress press) {
+        int ends = press.nest(4, press.choice(press.line(), press.text(0, 19)));
+        int aligned = press.align(press.choice(press.nest(1, press.text(1, 16)), ends));
+        int start = press.choice(press.soft(), press.text(2, 1));
+        int core = press.choice(start, press.group(press.pair(ends, aligned)));
+        int group = press.group(core);
+        int groups = press.group(press.group(group));
+        int last = press.align(press.pair(press.nest(3, group), groups));
+        int middle = press.align(press.pair(press.choice(start, press.group(groups)), last));
+        press.nest(6, press.pair(press.nest(3, group), middle));
     }
 }
