@@ -1230,15 +1230,16 @@ public final class LayoutPress {
             states.repeat(from, until);
             states.tell(until, FIRST);
             advance(node.first, flat || isGroup, shift, needed, until, depth + 1);
-            int middle = states.top;
+            int middle = from + states.top - until;
             states.repeat(from, until);
+            // The states that came here are above once more: their first place can be used again.
+            states.slide(until, from);
             states.tell(middle, SECOND);
             advance(isGroup ? node.first : node.second, flat, shift, needed, middle, depth + 1);
             if (!flat && !needed && node.indents) {
-                states.forgetBases(until);
+                states.forgetBases(from);
             }
-            states.merge(until);
-            states.slide(until, from);
+            states.merge(from);
         }
 
         private void pay(int cost, int from) {

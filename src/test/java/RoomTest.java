@@ -17,7 +17,7 @@ public final class RoomTest {
         measure("choices of widths", 1000000, RoomTest::choicesOfWidths);
         measure("aligned choices", 1000000, RoomTest::alignedChoices);
         measure("nested groups", 1000000, RoomTest::nestedGroups);
-        measure("groups of choices in aligns", 4000000, RoomTest::groupsOfChoicesInAligns);
+        measure("groups of choices in aligns", 2000000, RoomTest::groupsOfChoicesInAligns);
         Check.end();
     }
 
