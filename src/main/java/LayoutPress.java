@@ -327,6 +327,10 @@ public final class LayoutPress {
 
     /** A node, with what can be told of it before it is printed. */
     private static final class Node {
+        // Traits, of which a node has those of its parts: signs, and tabs that are more than a blank.
+        private static final int SIGNS = 1;
+        private static final int TABS = 2;
+
         private final Kind kind;
         // The letter, column, shift or cost, or which column of which table.
         private final int value;
@@ -346,6 +350,7 @@ public final class LayoutPress {
         private int flatLayoutCount;
         // A bit for each node that it is made of, itself included.
         private long within;
+        private int traits;
 
         Node(Kind kind, int value, int flatWidth) {
             this.kind = kind;
@@ -356,6 +361,7 @@ public final class LayoutPress {
             this.flatWidth = flatWidth;
             this.barred = kind.notInCells;
             this.indents = kind.endsLine();
+            this.traits = traitsOfLeaf(kind, value);
             this.layoutCount = 1;
             this.flatLayoutCount = 1;
         }
@@ -372,6 +378,13 @@ public final class LayoutPress {
             }
         }
 
+        private static int traitsOfLeaf(Kind kind, int value) {
+            if (kind == Kind.TAB) {
+                return value > 1 ? TABS : 0;
+            }
+            return kind.endsLine() ? 0 : SIGNS;
+        }
+
         private void measureOne(Node part) {
             boolean makesFlat = kind == Kind.FLAT || kind == Kind.CELL;
             leaves = part.leaves;
@@ -379,6 +392,7 @@ public final class LayoutPress {
             barred = kind.notInCells || part.barred;
             indents = !makesFlat && kind != Kind.ALIGN && part.indents;
             within = part.within;
+            traits = part.traits;
             mostFlatWays = part.mostFlatWays;
             flatLayoutCount = part.flatLayoutCount;
             if (kind == Kind.GROUP) {
@@ -393,6 +407,7 @@ public final class LayoutPress {
         private void measureTwo(Node one, Node two) {
             leaves = one.leaves + two.leaves;
             within = one.within | two.within;
+            traits = one.traits | two.traits;
             indents = one.indents || kind != Kind.BROKEN && two.indents;
             if (kind == Kind.PAIR) {
                 flatWidth = one.flatWidth + two.flatWidth;
@@ -808,94 +823,110 @@ public final class LayoutPress {
     }
 
     /**
-     * Printings that have come to the same place of a document, as rows of a stack. Of those from
-     * which all goes on alike, the best one alone is kept.
+     * Printings that have come to the same place of a document, as rows of a stack. At an ALIGN
+     * they wait, as their indentations do not matter within it: for all that stand in the same
+     * line one state goes on, that counts its weight and ways from there. So ALIGNs in one another
+     * do not multiply the states.
      */
     private static final class States {
         private static final int FEW = 32;
-        private static final int MOST_SLOT_BITS = 28;
+        // What they are too few for is searched in portions.
+        private static final int MOST_STATES = 4096;
         // More than there can be line ends.
         private static final int COST_WEIGHT = MOST_LINES + 1;
+        private static final int DOCUMENT = 0;
+        private static final int START = 1;
 
         private int top;
-        // Whether one was dropped for its weight.
-        private boolean hasDropped;
-        private int[] scope;
+        private boolean isFull;
+        // What weighs more is dropped; of that the least weight is kept.
+        private long limit;
+        private long leastDropped;
+        // The state that waits at the ALIGN around: its column is the indentation.
+        private int[] around;
         private int[] column;
         private int[] first;
-        private int[] end;
         private int[] hasRemark;
-        // Its cost, and behind that its line ends, so that the lesser weight is the better one.
+        // What the present line costs as it stands.
+        private long[] paid;
+        // The cost, and behind that the line ends, so that the lesser weight is the better one.
         private long[] weight;
         private int[] ways;
         private int[] told;
-        // A scope is where an ALIGN sets the indentation: its column, NONE if that does not matter
-        // any more, and the scope around it. Scope 0 is the document itself.
-        private int scopeCount;
-        private int[] base;
-        private int[] outer;
+        // The least weight, from the document's beginning on, of all for which a waiting state stands.
+        private long[] floor;
+        // Of a state that waits, the one that stands for it; of another one, the next in its chain.
+        private int[] link;
+        // The first in the chain of a waiting state.
+        private int[] head;
         private int[] slots;
-        // The next state of those that are at the same place.
-        private int[] next;
+        private int slotCount;
 
         States() {
-            scope = new int[FEW];
+            around = new int[FEW];
             column = new int[FEW];
             first = new int[FEW];
-            end = new int[FEW];
             hasRemark = new int[FEW];
+            paid = new long[FEW];
             weight = new long[FEW];
             ways = new int[FEW];
             told = new int[FEW];
-            base = new int[FEW];
-            outer = new int[FEW];
-            slots = new int[2 * FEW];
-            next = new int[FEW];
+            floor = new long[FEW];
+            link = new int[FEW];
+            head = new int[FEW];
+            slots = new int[FEW];
         }
 
         /** Begins with one state: the beginning of a document. */
         void begin() {
-            top = 1;
-            hasDropped = false;
-            scope[0] = 0;
-            column[0] = 0;
-            first[0] = NONE;
-            end[0] = 0;
-            hasRemark[0] = 0;
-            weight[0] = 0;
-            ways[0] = 0;
-            told[0] = 0;
-            scopeCount = 1;
-            base[0] = 0;
-            outer[0] = 0;
+            isFull = false;
+            floor[DOCUMENT] = 0;
+            column[DOCUMENT] = 0;
+            around[START] = DOCUMENT;
+            column[START] = 0;
+            first[START] = NONE;
+            hasRemark[START] = 0;
+            paid[START] = 0;
+            weight[START] = 0;
+            ways[START] = 0;
+            told[START] = 0;
+            top = START + 1;
         }
 
-        private void makeRoom(int more) {
+        /** Whether there is room for so many more; if not, all that goes on is given up. */
+        private boolean hasRoom(int more) {
             int wanted = top + more;
-            if (wanted <= scope.length) {
-                return;
+            if (wanted > MOST_STATES) {
+                isFull = true;
+            } else if (wanted > column.length) {
+                makeRows(Math.min(MOST_STATES, Math.max(wanted, 2 * column.length)));
             }
-            int length = Math.max(wanted, 2 * scope.length);
-            scope = Arrays.copyOf(scope, length);
+            return !isFull;
+        }
+
+        private void makeRows(int length) {
+            around = Arrays.copyOf(around, length);
             column = Arrays.copyOf(column, length);
             first = Arrays.copyOf(first, length);
-            end = Arrays.copyOf(end, length);
             hasRemark = Arrays.copyOf(hasRemark, length);
+            paid = Arrays.copyOf(paid, length);
             weight = Arrays.copyOf(weight, length);
             ways = Arrays.copyOf(ways, length);
             told = Arrays.copyOf(told, length);
-            next = Arrays.copyOf(next, length);
+            floor = Arrays.copyOf(floor, length);
+            link = Arrays.copyOf(link, length);
+            head = Arrays.copyOf(head, length);
         }
 
         private void copyState(int from, int to) {
             if (from == to) {
                 return;
             }
-            scope[to] = scope[from];
+            around[to] = around[from];
             column[to] = column[from];
             first[to] = first[from];
-            end[to] = end[from];
             hasRemark[to] = hasRemark[from];
+            paid[to] = paid[from];
             weight[to] = weight[from];
             ways[to] = ways[from];
             told[to] = told[from];
@@ -914,22 +945,42 @@ public final class LayoutPress {
         }
 
         /** Drops the states from one on whose weight is above the limit. */
-        void dropAbove(long limit, int from) {
+        void dropHeavy(int from) {
             int kept = from;
             for (int i = from; i < top; i++) {
-                if (weight[i] <= limit) {
+                if (!isHeavy(i)) {
                     copyState(i, kept);
                     kept++;
-                } else {
-                    hasDropped = true;
                 }
             }
             top = kept;
         }
 
+        private boolean isHeavy(int at) {
+            long least = fullWeight(at);
+            boolean isAbove = least > limit;
+            if (isAbove && (leastDropped == NONE || least < leastDropped)) {
+                leastDropped = least;
+            }
+            return isAbove;
+        }
+
+        /** The weight from the document's beginning on; within an ALIGN the least that it can be. */
+        private long fullWeight(int at) {
+            int waiting = around[at];
+            return weight[at] + (waiting < 0 || waiting >= floor.length ? 0 : floor[waiting]);
+        }
+
+        int indentationOf(int at) {
+            int waiting = around[at];
+            return waiting < 0 || waiting >= column.length ? 0 : column[waiting];
+        }
+
         /** Puts copies of the states from one up to another one on top. */
         void repeat(int from, int until) {
-            makeRoom(until - from);
+            if (!hasRoom(until - from)) {
+                return;
+            }
             for (int i = from; i < until; i++) {
                 copyState(i, top);
                 top++;
@@ -955,80 +1006,6 @@ public final class LayoutPress {
             }
         }
 
-        /** Drops, of the states from one on, those that go on no better than another one. */
-        void merge(int from) {
-            if (top - from < 2) {
-                return;
-            }
-            int slotCount = clearSlots(top - from);
-            int kept = from;
-            for (int i = from; i < top; i++) {
-                int slot = slotOfPlace(i, slotCount);
-                int head = slots[slot] - 1;
-                if (head < from || !isSettled(i, head, kept - from)) {
-                    copyState(i, kept);
-                    next[kept] = head;
-                    slots[slot] = kept + 1;
-                    kept++;
-                }
-            }
-            top = kept;
-        }
-
-        /** Whether one of the kept states at the same place makes this one needless, or gives way. */
-        private boolean isSettled(int at, int head, int most) {
-            int other = head;
-            for (int step = 0; step < most && other >= 0; step++) {
-                boolean isOtherBetter = isBetter(other, at);
-                if (isOtherBetter && goesOnNoWorse(other, at)) {
-                    return true;
-                }
-                if (!isOtherBetter && goesOnNoWorse(at, other)) {
-                    copyState(at, other);
-                    return true;
-                }
-                other = next[other];
-            }
-            return false;
-        }
-
-        /** Whether, of two states at the same place, what follows costs the one no more in any case. */
-        private boolean goesOnNoWorse(int one, int other) {
-            return end[one] <= end[other] && hasRemark[one] <= hasRemark[other]
-                    && (first[one] == NONE || first[other] != NONE && first[one] >= first[other]);
-        }
-
-        private int clearSlots(int count) {
-            int slotCount = 2;
-            for (int bits = 1; bits < MOST_SLOT_BITS && slotCount < 2 * count; bits++) {
-                slotCount = 2 * slotCount;
-            }
-            if (slotCount > slots.length) {
-                slots = new int[slotCount];
-            } else {
-                Arrays.fill(slots, 0, slotCount, 0);
-            }
-            return slotCount;
-        }
-
-        private static int mix(int sum, int next) {
-            int mixed = (sum ^ next) * 0x9E3779B1;
-            return mixed ^ (mixed >>> 15);
-        }
-
-        /** The slot of the states that are at the place of this one, or else an empty one. */
-        private int slotOfPlace(int at, int slotCount) {
-            int slot = mix(scope[at], column[at]) & (slotCount - 1);
-            for (int probe = 0; probe < slotCount; probe++) {
-                int other = slots[slot] - 1;
-                if (other < 0 || column[at] == column[other] && scope[at] == scope[other]) {
-                    break;
-                }
-                slot = (slot + 1) & (slotCount - 1);
-            }
-            return slot;
-        }
-
         void addCost(int at, long cost) {
             weight[at] += COST_WEIGHT * cost;
         }
@@ -1037,84 +1014,208 @@ public final class LayoutPress {
             weight[at]++;
         }
 
-        boolean isBetter(int one, int other) {
-            if (weight[one] != weight[other]) {
-                return weight[one] < weight[other];
-            }
-            return ways[one] < ways[other];
+        void beginLine(int at, int newColumn) {
+            column[at] = newColumn;
+            first[at] = NONE;
+            hasRemark[at] = 0;
+            paid[at] = 0;
         }
 
-        int baseOf(int state) {
-            int at = scope[state];
-            return at < 0 || at >= base.length ? 0 : base[at];
-        }
-
-        private int outerOf(int state) {
-            int at = scope[state];
-            return at < 0 || at >= outer.length ? 0 : outer[at];
-        }
-
-        /** Takes the states from one on into an ALIGN. */
-        void enterScopes(int from) {
-            int slotCount = clearSlots(top - from);
+        /** Makes the lines of all states from one on alike: no sign comes behind them. */
+        void forgetLines(int from) {
             for (int i = from; i < top; i++) {
-                scope[i] = scopeWith(column[i], scope[i], slotCount);
+                beginLine(i, 0);
             }
         }
 
-        /** Takes the states from one on out of an ALIGN, ahead of which there were so many scopes. */
-        void leaveScopes(int from, int scopesBefore) {
-            for (int i = from; i < top; i++) {
-                scope[i] = outerOf(i);
+        /**
+         * Drops, of the states from one on, those that go on no better than another one. Where
+         * tabs are behind, only states in the same column can be compared.
+         */
+        void merge(int from, boolean tabs) {
+            int until = top;
+            if (until - from < 2) {
+                return;
             }
-            scopeCount = scopesBefore;
-            merge(from);
+            clearSlots(until - from);
+            top = from;
+            for (int i = from; i < until; i++) {
+                copyState(i, top);
+                keepTop(tabs);
+            }
         }
 
-        /** Makes the states from one on alike that differ only in where their ALIGN begins. */
-        void forgetBases(int from) {
-            int slotCount = clearSlots(top - from);
-            for (int i = from; i < top; i++) {
-                if (baseOf(i) != NONE) {
-                    scope[i] = scopeWith(NONE, outerOf(i), slotCount);
+        /** Keeps the state in the row behind the others, if it does not go on worse than one of them. */
+        private void keepTop(boolean tabs) {
+            int slot = slotOf(tabs ? mix(around[top], column[top]) : mix(around[top], 0));
+            int other = slots[slot] - 1;
+            for (int step = 0; step < top && other >= 0; step++) {
+                if (goesOnNoWorse(other, top, tabs)) {
+                    return;
                 }
+                if (goesOnNoWorse(top, other, tabs)) {
+                    copyState(top, other);
+                    return;
+                }
+                other = link[other];
+            }
+            link[top] = slots[slot] - 1;
+            slots[slot] = top + 1;
+            top++;
+        }
+
+        /**
+         * Whether one state is better than another one however both go on: if signs come in the
+         * line, if none come, and in the lines behind.
+         */
+        private boolean goesOnNoWorse(int one, int other, boolean tabs) {
+            if (around[one] != around[other] || column[one] > column[other]
+                    || tabs && column[one] < column[other] || hasRemark[one] > hasRemark[other]) {
+                return false;
+            }
+            long less = weight[other] - weight[one];
+            long lessAhead = less - COST_WEIGHT * (paid[other] - paid[one]);
+            if (less < 0 || lessAhead < 0 || (less == 0 || lessAhead == 0) && ways[one] > ways[other]) {
+                return false;
+            }
+            return first[one] == NONE
+                    || first[other] != NONE && column[one] - first[one] <= column[other] - first[other];
+        }
+
+        private void clearSlots(int count) {
+            int wanted = 2;
+            while (wanted < count && wanted < MOST_STATES) {
+                wanted = 2 * wanted;
+            }
+            slotCount = wanted;
+            if (wanted > slots.length) {
+                slots = new int[wanted];
+            } else {
+                Arrays.fill(slots, 0, wanted, 0);
             }
         }
 
-        private int scopeWith(int newBase, int around, int slotCount) {
-            int slot = mix(around, newBase) & (slotCount - 1);
-            for (int probe = 0; probe < slotCount; probe++) {
+        private int slotOf(int mixed) {
+            return mixed & (slotCount - 1);
+        }
+
+        private static int mix(int sum, int next) {
+            int mixed = (sum ^ next) * 0x9E3779B1;
+            return mixed ^ (mixed >>> 15);
+        }
+
+        /** Lets the states from one on wait at an ALIGN: of those in the same line the first stands for all. */
+        void waitAtAlign(int from) {
+            clearSlots(top - from);
+            for (int i = from; i < top; i++) {
+                int slot = slotOf(mix(mix(column[i], first[i]), 2 * (int) paid[i] + hasRemark[i]));
                 int other = slots[slot] - 1;
-                if (other < 0) {
-                    break;
+                for (int step = 0; step < top && other >= 0 && !isInSameLine(i, other); step++) {
+                    other = head[other];
                 }
-                if (base[other] == newBase && outer[other] == around) {
-                    return other;
+                if (other >= 0) {
+                    link[i] = other;
+                    floor[other] = Math.min(floor[other], fullWeight(i));
+                } else {
+                    link[i] = i;
+                    floor[i] = fullWeight(i);
+                    head[i] = slots[slot] - 1;
+                    slots[slot] = i + 1;
                 }
-                slot = (slot + 1) & (slotCount - 1);
             }
-            if (scopeCount >= base.length) {
-                base = Arrays.copyOf(base, 2 * base.length);
-                outer = Arrays.copyOf(outer, 2 * outer.length);
+        }
+
+        private boolean isInSameLine(int one, int other) {
+            return column[one] == column[other] && first[one] == first[other]
+                    && hasRemark[one] == hasRemark[other] && paid[one] == paid[other];
+        }
+
+        /**
+         * Puts on top what goes on for at most so many of the waiting states that stand for others,
+         * from one up to another one. Returns how far it came.
+         */
+        int enterAlign(int from, int until, int most) {
+            int before = top;
+            int i = from;
+            while (i < until && top - before < most && hasRoom(1)) {
+                if (link[i] == i) {
+                    copyState(i, top);
+                    around[top] = i;
+                    weight[top] = 0;
+                    ways[top] = 0;
+                    told[top] = 0;
+                    top++;
+                }
+                i++;
             }
-            base[scopeCount] = newBase;
-            outer[scopeCount] = around;
-            scopeCount++;
-            slots[slot] = scopeCount;
-            return scopeCount - 1;
+            return i;
+        }
+
+        /**
+         * Takes waiting states out of an ALIGN: those for which one from the first up to the last
+         * one stands. What has come through the ALIGN is on top, and is replaced by them.
+         */
+        void leaveAlign(int from, int until, int firstOne, int lastOne, int inside, boolean tabs) {
+            if (isFull) {
+                return;
+            }
+            int outside = top;
+            for (int i = firstOne; i <= lastOne; i++) {
+                head[i] = NONE;
+            }
+            for (int i = inside; i < outside; i++) {
+                int waiting = around[i];
+                if (waiting >= firstOne && waiting <= lastOne) {
+                    link[i] = head[waiting];
+                    head[waiting] = i;
+                }
+            }
+            clearSlots(2 * (outside - from));
+            for (int i = from; i < until; i++) {
+                int other = link[i] >= firstOne && link[i] <= lastOne ? head[link[i]] : NONE;
+                for (int step = 0; step < outside && other >= 0 && hasRoom(1); step++) {
+                    join(i, other, tabs);
+                    other = link[other];
+                }
+            }
+            slide(outside, inside);
+        }
+
+        /** Puts on top how a state that waited goes on, as another one went through the ALIGN for it. */
+        private void join(int waiting, int other, boolean tabs) {
+            copyState(other, top);
+            around[top] = around[waiting];
+            weight[top] = weight[waiting] + weight[other];
+            ways[top] = ways[waiting] | ways[other] >> told[waiting];
+            told[top] = told[waiting] + told[other];
+            if (!isHeavy(top)) {
+                keepTop(tabs);
+            }
+        }
+
+        /** Gives up the states from one on, so that there is room for another try. */
+        void giveUp(int from) {
+            top = from;
+            isFull = false;
         }
     }
 
     /** Finds the best layout, all layouts side by side, from the left to the right. */
     private static final class Search {
         // No layout weighs as much as the limit of the last one of so many turns.
-        private static final int MOST_TURNS = 18;
+        private static final int MOST_TURNS = 24;
+        private static final int MOST_PARTS = 1 << 30;
 
         private final Terms terms;
         private final States states;
+        // The ways that all layouts take in the present part of the search, and how many of them
+        // were taken. As long as not all are, there is just one state.
+        private int plan;
+        private int planned;
+        private int taken;
+        private boolean hasFound;
         private int bestWays;
         private int bestTold;
-        private long limit;
 
         Search(Terms terms) {
             this.terms = terms;
@@ -1127,155 +1228,220 @@ public final class LayoutPress {
          * first, and below higher ones until it is there, or nothing was dropped for its weight.
          */
         boolean findBest(Node root) {
-            limit = 0;
-            for (int turn = 0; turn < MOST_TURNS; turn++) {
-                states.begin();
-                advance(root, false, 0, true, 0, 0);
-                endLastLines();
-                if (states.top > 0 || !states.hasDropped) {
+            hasFound = false;
+            long limit = 0;
+            for (int turn = 0; turn < MOST_TURNS && !hasFound; turn++) {
+                states.limit = limit;
+                states.leastDropped = NONE;
+                searchInParts(root);
+                if (states.leastDropped == NONE) {
                     break;
                 }
-                limit = 8 * limit + 7;
+                limit = Math.max(states.leastDropped, 8 * limit + 7);
             }
-            if (states.top > 0) {
-                keepBest();
-            }
-            return states.top > 0;
+            return hasFound;
         }
 
-        private void endLastLines() {
-            for (int i = 0; i < states.top; i++) {
-                states.addCost(i, terms.lineCost(states.first[i], states.end[i]));
-            }
-            states.dropAbove(limit, 0);
-        }
-
-        private void keepBest() {
-            int best = 0;
-            for (int i = 1; i < states.top; i++) {
-                if (states.isBetter(i, best)) {
-                    best = i;
+        /** Searches all layouts, or, if they are too many at once, parts that begin with the same ways. */
+        private void searchInParts(Node root) {
+            boolean isAhead = true;
+            plan = 0;
+            planned = 0;
+            for (int part = 0; part < MOST_PARTS && isAhead; part++) {
+                taken = 0;
+                states.begin();
+                advance(root, false, 0, 0, States.START, 0);
+                if (states.isFull && planned < MOST_WAYS) {
+                    planned++;
+                } else {
+                    keepBest();
+                    isAhead = planNextPart();
                 }
             }
-            bestWays = states.ways[best];
-            bestTold = states.told[best];
+        }
+
+        /** Whether there is a part behind the present one. */
+        private boolean planNextPart() {
+            while (planned > 0 && wayIn(plan, planned - 1) == SECOND) {
+                planned--;
+                plan = plan ^ wayBit(planned);
+            }
+            if (planned > 0) {
+                plan = plan | wayBit(planned - 1);
+            }
+            return planned > 0;
+        }
+
+        /** Keeps the best layout, if there is one; those of later parts must weigh less. */
+        private void keepBest() {
+            // No sign comes behind the document: all states were alike, and the best one is left.
+            boolean isLeft = !states.isFull && states.top > States.START;
+            if (isLeft && states.weight[States.START] <= states.limit) {
+                hasFound = true;
+                bestWays = states.ways[States.START];
+                bestTold = states.told[States.START];
+                states.limit = states.weight[States.START] - 1;
+            }
         }
 
         /**
-         * Takes the states from one on through a node. The shift is that of the NESTs around it;
-         * the indentation is needed if a line end behind the node can still come back to it.
+         * Takes the states from one on through a node. The shift is that of the NESTs around it,
+         * behind are the traits of what can come behind it in the document.
          */
-        private void advance(Node node, boolean flat, int shift, boolean needed, int from, int depth) {
-            if (node == null || states.top <= from || depth >= MOST_NODES) {
+        private void advance(Node node, boolean flat, int shift, int behind, int from, int depth) {
+            if (node == null || states.isFull || states.top <= from || depth >= MOST_NODES) {
                 return;
             }
             switch (node.kind) {
                 case PAIR:
-                    boolean neededBehind = needed || !flat && node.second != null && node.second.indents;
-                    advance(node.first, flat, shift, neededBehind, from, depth + 1);
-                    advance(node.second, flat, shift, needed, from, depth + 1);
+                    int nearBehind = behind | (node.second == null ? 0 : node.second.traits);
+                    advance(node.first, flat, shift, nearBehind, from, depth + 1);
+                    advance(node.second, flat, shift, behind, from, depth + 1);
                     break;
                 case NEST:
-                    advance(node.first, flat, shift + node.value, needed, from, depth + 1);
+                    advance(node.first, flat, shift + node.value, behind, from, depth + 1);
                     break;
                 case ALIGN:
-                    advanceAlign(node, flat, needed, from, depth);
+                    advanceAlign(node.first, flat, 0, behind, from, depth);
                     break;
                 case GROUP:
                 case CHOICE:
-                    fork(node, flat, shift, needed, from, depth);
+                    fork(node, flat, shift, behind, from, depth);
                     break;
                 case FLAT:
-                    advance(node.first, true, shift, needed, from, depth + 1);
+                    advance(node.first, true, shift, behind, from, depth + 1);
                     break;
                 case BROKEN:
-                    advance(flat ? node.second : node.first, flat, shift, needed, from, depth + 1);
+                    advance(flat ? node.second : node.first, flat, shift, behind, from, depth + 1);
                     break;
                 case PRICE:
                     pay(node.value, from);
-                    advance(node.first, flat, shift, needed, from, depth + 1);
+                    advance(node.first, flat, shift, behind, from, depth + 1);
                     break;
                 case KEEP:
-                    advance(node.first, flat, shift, needed, from, depth + 1);
+                    advance(node.first, flat, shift, behind, from, depth + 1);
                     break;
                 case CELL:
-                    advance(node.first, true, shift, needed, from, depth + 1);
+                    advance(node.first, true, shift, behind, from, depth + 1);
                     putBlanks(terms.padding(node), from);
+                    settle(behind, from);
                     break;
                 default:
-                    advanceLeaf(node, flat, shift, needed, from);
+                    putLeaf(node, flat, shift, from);
+                    settle(behind, from);
                     break;
             }
         }
 
-        private void advanceAlign(Node node, boolean flat, boolean needed, int from, int depth) {
-            Node part = node.first;
-            if (flat || part == null || !part.indents) {
-                advance(part, flat, 0, needed, from, depth + 1);
-                return;
+        /** Takes the states from one on through the part of an ALIGN, within NESTs that shift it. */
+        private void advanceAlign(Node part, boolean flat, int shift, int behind, int from, int depth) {
+            boolean hasSigns = part != null && ((part.traits | behind) & Node.SIGNS) != 0;
+            if (depth >= MOST_NODES || flat || !hasSigns || !part.indents) {
+                advance(part, flat, 0, behind, from, depth + 1);
+            } else if (part.kind == Kind.NEST) {
+                advanceAlign(part.first, false, shift + part.value, behind, from, depth + 1);
+            } else if (part.kind == Kind.PAIR && part.second != null && !part.second.indents) {
+                // The ALIGN can end here: its column does not matter any more.
+                advanceAlign(part.first, false, shift, behind | part.second.traits, from, depth + 1);
+                advance(part.second, false, 0, behind, from, depth + 1);
+            } else {
+                passAlign(part, shift, behind, from, depth);
             }
-            int scopesBefore = states.scopeCount;
-            states.enterScopes(from);
-            advance(part, false, 0, false, from, depth + 1);
-            states.leaveScopes(from, scopesBefore);
         }
 
-        private void fork(Node node, boolean flat, int shift, boolean needed, int from, int depth) {
-            boolean isGroup = node.kind == Kind.GROUP;
-            if (isGroup && flat) {
-                advance(node.first, true, shift, needed, from, depth + 1);
-                return;
-            }
+        /** Takes the states from one on through an ALIGN: all at once or, if there is no room, in portions. */
+        private void passAlign(Node part, int shift, int behind, int from, int depth) {
             int until = states.top;
-            states.repeat(from, until);
-            states.tell(until, FIRST);
-            advance(node.first, flat || isGroup, shift, needed, until, depth + 1);
-            int middle = from + states.top - until;
-            states.repeat(from, until);
-            // The states that came here are above once more: their first place can be used again.
-            states.slide(until, from);
-            states.tell(middle, SECOND);
-            advance(isGroup ? node.first : node.second, flat, shift, needed, middle, depth + 1);
-            if (!flat && !needed && node.indents) {
-                states.forgetBases(from);
+            int begin = from;
+            int most = until - from;
+            states.waitAtAlign(from);
+            for (int turn = 0; turn < States.MOST_STATES && begin < until && most > 0; turn++) {
+                int inside = states.top;
+                int end = states.enterAlign(begin, until, most);
+                int entered = states.top - inside;
+                advance(part, false, shift, behind, inside, depth + 1);
+                states.leaveAlign(from, until, begin, end - 1, inside, (behind & Node.TABS) != 0);
+                if (!states.isFull) {
+                    settle(behind, until);
+                    begin = end;
+                } else if (entered > 1) {
+                    states.giveUp(inside);
+                    most = entered / 2;
+                } else {
+                    most = 0;
+                }
             }
-            states.merge(from);
+            states.slide(until, from);
+        }
+
+        private void fork(Node node, boolean flat, int shift, int behind, int from, int depth) {
+            if (node.kind == Kind.GROUP && flat) {
+                advance(node.first, true, shift, behind, from, depth + 1);
+            } else if (taken < planned) {
+                int way = wayIn(plan, taken);
+                taken++;
+                takeWay(node, way, flat, shift, behind, from, depth);
+            } else {
+                int until = states.top;
+                states.repeat(from, until);
+                takeWay(node, FIRST, flat, shift, behind, until, depth);
+                int middle = from + states.top - until;
+                states.repeat(from, until);
+                // The states that came here are above once more: their first place can be used again.
+                states.slide(until, from);
+                takeWay(node, SECOND, flat, shift, behind, middle, depth);
+                settle(behind, from);
+            }
+        }
+
+        private void takeWay(Node node, int way, boolean flat, int shift, int behind, int from, int depth) {
+            boolean isGroup = node.kind == Kind.GROUP;
+            Node part = isGroup || way == FIRST ? node.first : node.second;
+            states.tell(from, way);
+            advance(part, flat || isGroup && way == FIRST, shift, behind, from, depth + 1);
+        }
+
+        /** Drops, of the states from one on, those that are needless or too dear. */
+        private void settle(int behind, int from) {
+            if ((behind & Node.SIGNS) == 0) {
+                states.forgetLines(from);
+            }
+            states.merge(from, (behind & Node.TABS) != 0);
         }
 
         private void pay(int cost, int from) {
             for (int i = from; i < states.top; i++) {
                 states.addCost(i, cost);
             }
-            states.dropAbove(limit, from);
+            states.dropHeavy(from);
         }
 
-        private void advanceLeaf(Node node, boolean flat, int shift, boolean needed, int from) {
+        private void putLeaf(Node node, boolean flat, int shift, int from) {
             if (flat && node.kind.neverFlat) {
                 states.top = from;
             } else if (node.kind == Kind.TAB) {
                 putTab(node.value, from);
             } else if (!node.kind.endsLine()) {
-                states.dropRemarked(from);
                 putSigns(node, from);
             } else if (flat) {
                 putBlanks(node.flatWidth, from);
             } else {
                 endLines(shift, from);
-                if (!needed) {
-                    states.forgetBases(from);
-                }
             }
-            states.merge(from);
+            states.dropHeavy(from);
         }
 
         private void putSigns(Node node, int from) {
             int remark = node.kind == Kind.REMARK ? 1 : 0;
+            states.dropRemarked(from);
             for (int i = from; i < states.top; i++) {
                 if (states.first[i] == NONE) {
                     states.first[i] = states.column[i];
                 }
                 states.column[i] += node.flatWidth;
-                states.end[i] = states.column[i];
+                long cost = terms.lineCost(states.first[i], states.column[i]);
+                states.addCost(i, cost - states.paid[i]);
+                states.paid[i] = cost;
                 states.hasRemark[i] = remark;
             }
         }
@@ -1294,14 +1460,10 @@ public final class LayoutPress {
 
         private void endLines(int shift, int from) {
             for (int i = from; i < states.top; i++) {
-                states.addCost(i, terms.linePrice + terms.lineCost(states.first[i], states.end[i]));
+                states.addCost(i, terms.linePrice);
                 states.addLineEnd(i);
-                states.column[i] = Math.max(0, states.baseOf(i) + shift);
-                states.first[i] = NONE;
-                states.end[i] = 0;
-                states.hasRemark[i] = 0;
+                states.beginLine(i, Math.max(0, states.indentationOf(i) + shift));
             }
-            states.dropAbove(limit, from);
         }
     }
 

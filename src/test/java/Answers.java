@@ -37,6 +37,23 @@ final class Answers {
         return all.toString();
     }
 
+    /** All that can be asked of an object, as a text: its nodes, what was printed last, and its pages. */
+    static String all(LayoutPress press) {
+        StringBuilder all = new StringBuilder(of(press)).append(" nodes");
+        for (int node = 0; node < press.nodes(); node++) {
+            all.append(' ').append(press.size(node)).append(' ').append(press.layouts(node));
+        }
+        all.append(" pages");
+        try {
+            for (int line = 0; line < press.lines(); line++) {
+                all.append(' ').append(press.pageOf(line));
+            }
+        } catch (IllegalStateException e) {
+            all.append(" none");
+        }
+        return all.toString();
+    }
+
     /** The signs of the lines, each line behind a "|". */
     static String lines(LayoutPress press) {
         StringBuilder all = new StringBuilder();

@@ -56,6 +56,13 @@ final class Check {
         fails(what, IllegalStateException.class, call);
     }
 
+    /** A call that throws, and changes nothing that any call answers. */
+    static void refuses(String what, LayoutPress press, Class<? extends RuntimeException> due, Call call) {
+        String before = Answers.all(press);
+        fails(what, due, call);
+        sameText(what + " changes nothing", Answers.all(press), before);
+    }
+
     private static void report(String text) {
         wrong++;
         if (wrong <= 40) {

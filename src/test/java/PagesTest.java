@@ -8,9 +8,12 @@ public final class PagesTest {
         freeLines();
         fewestPages();
         firstPageHasTheMost();
+        secondPageHasTheMost();
         keeps();
+        keepsEnds();
         keepsAddUp();
         keepsThatAreNotPrinted();
+        oneLineMore();
         manyLines();
         printingForgetsPages();
         Check.end();
@@ -106,6 +109,48 @@ public final class PagesTest {
         Check.sameText("7 lines by 3", pages(press), "0001112");
     }
 
+    // "of these those whose first page has the most lines, then the second one, and so on"
+    private static void secondPageHasTheMost() {
+        LayoutPress press = new LayoutPress();
+        int end = press.hard();
+        int three = press.pair(end, press.pair(end, end));
+        int kept = press.keep(1, end);
+        // 3, 3 and 1 lines cost as much as 3, 2 and 2
+        press.print(press.pair(press.pair(three, press.pair(end, end)), kept), 80, 80, 0);
+        Check.same("7 lines by 3", press.breakPages(3), 1);
+        Check.sameText("7 lines by 3", pages(press), "0001112");
+        // 3, 3, 3 and 1 lines cost as much as 3, 3, 2 and 2
+        press.print(press.pair(three, press.pair(press.pair(three, press.pair(end, end)), kept)), 80, 80, 0);
+        Check.same("10 lines by 3", press.breakPages(3), 1);
+        Check.sameText("10 lines by 3", pages(press), "0001112223");
+        // a cut behind 6 lines is dear: 3, 2 and 2 lines, as 2, 3 and 2 lines cost the same
+        int dear = press.keep(9, end);
+        press.print(press.pair(press.pair(three, press.pair(end, end)), dear), 80, 80, 0);
+        Check.same("7 lines by 3, a dear cut", press.breakPages(3), 1);
+        Check.sameText("7 lines by 3, a dear cut", pages(press), "0001122");
+    }
+
+    // "from the line in which its printing begins to that in which it ends"
+    private static void keepsEnds() {
+        for (int cost : new int[] {0, 1, 1000}) {
+            LayoutPress press = new LayoutPress();
+            int text = press.text(0, 1);
+            int end = press.hard();
+            int inner = press.pair(text, press.pair(end, press.pair(text, press.pair(end, text))));
+            int outer = press.pair(end, press.pair(press.keep(cost, inner), end));
+            press.print(outer, 80, 80, 0);
+            Check.same("lines with a KEEP in lines 1 to 3", press.lines(), 5);
+            Check.same("both cuts in it, none at its ends, by " + cost, press.breakPages(1), 2 * cost);
+            press.print(press.flat(press.pair(text, press.keep(cost, press.pair(press.line(), text)))), 80, 80, 0);
+            Check.same("a flat KEEP by " + cost, press.breakPages(1), 0);
+            int one = press.keep(cost, end);
+            press.print(press.pair(end, press.pair(one, end)), 80, 80, 0);
+            Check.same("a KEEP around a line end by " + cost, press.breakPages(1), cost);
+            press.print(press.pair(end, press.pair(press.keep(cost, text), end)), 80, 80, 0);
+            Check.same("a KEEP in one line by " + cost, press.breakPages(1), 0);
+        }
+    }
+
     private static void keeps() {
         LayoutPress press = new LayoutPress();
         int text = press.text(0, 1);
@@ -152,6 +197,19 @@ public final class PagesTest {
         Check.same("KEEPs that are not printed", press.breakPages(1), 0);
         press.print(press.pair(press.broken(kept, end), press.choice(kept, end)), 80, 80, 0);
         Check.same("KEEPs that are printed", press.breakPages(1), 18);
+    }
+
+    // "at most as many as the height tells"
+    private static void oneLineMore() {
+        for (int height = 1; height <= 20; height++) {
+            LayoutPress press = lines(height);
+            Check.same("as many lines as the height " + height, press.breakPages(height), 0);
+            Check.same("on one page", press.pageOf(height - 1), 0);
+            LayoutPress more = lines(height + 1);
+            Check.same("one line more than the height " + height, more.breakPages(height), 0);
+            Check.same("on the first page", more.pageOf(height - 1), 0);
+            Check.same("on the second page", more.pageOf(height), 1);
+        }
     }
 
     private static void manyLines() {

@@ -22,6 +22,10 @@ public final class PrintingTest {
         bestByLineEnds();
         bestByWays();
         blanksCountInCosts();
+        blanksBehindRemarks();
+        cellsThatAreNotPrinted();
+        partsOfGroups();
+        dearest();
         manyLayouts();
         hundredLayouts();
         greedyWidth();
@@ -195,6 +199,100 @@ public final class PrintingTest {
         Check.same("the price", press.wayAt(0), 0);
         Check.same("a price or a cell padded less", press.print(table2, 9, 80, 0), 1);
         Check.same("the cell", press.wayAt(0), 1);
+    }
+
+    // "if a sign stands behind a remark in its line": blanks can
+    private static void blanksBehindRemarks() {
+        LayoutPress press = new LayoutPress();
+        int text = press.text(0, 1);
+        int remark = press.remark(1, 1);
+        int hard = press.hard();
+        int[] blanks = {press.flat(press.line()), press.flat(press.soft()), press.tab(0), press.tab(40),
+            press.cell(0, 0, press.line())};
+        for (int blank : blanks) {
+            int row = press.pair(remark, blank);
+            Check.same("blanks behind a remark", press.print(row, 1, 1, 0), 0);
+            Check.same("the remark alone", press.length(0), 1);
+            int wrong = press.pair(row, text);
+            Check.failsState("a text behind a remark and " + blank, () -> press.print(wrong, 80, 80, 0));
+            Check.failsState("by all, a text behind a remark and " + blank, () -> press.printByAll(wrong, 80, 80, 0));
+            Check.failsState("greedily, a text behind a remark and " + blank,
+                    () -> press.printGreedy(wrong, 80, 80, 0));
+            Check.same("in the next line", press.print(press.pair(row, press.pair(hard, text)), 80, 80, 3), 3);
+        }
+        int again = press.pair(remark, press.pair(blanks[0], remark));
+        Check.failsState("a remark behind a remark", () -> press.print(again, 80, 80, 0));
+    }
+
+    // "of all that are in the document, printed or not"
+    private static void cellsThatAreNotPrinted() {
+        LayoutPress press = new LayoutPress();
+        int slim = press.cell(2, 3, press.text(0, 1));
+        int wide = press.cell(2, 3, press.text(1, 6));
+        int mark = press.text(2, 1);
+        int shown = press.pair(slim, mark);
+        int way = press.choice(mark, wide);
+        Check.same("a cell of the other way", press.print(press.pair(shown, way), 80, 80, 0), 0);
+        Check.same("the first way", press.wayAt(0), 0);
+        Check.same("its place", press.placeOf(mark), 6);
+        press.print(press.pair(shown, press.broken(mark, wide)), 80, 80, 0);
+        Check.same("a cell of a broken", press.placeOf(mark), 6);
+        press.print(press.pair(shown, press.group(press.broken(wide, mark))), 80, 80, 0);
+        Check.same("a cell of a flat broken", press.placeOf(mark), 6);
+        press.print(press.pair(shown, shown), 80, 80, 0);
+        Check.same("no other cell", press.placeOf(mark), 1);
+        // a cell's blanks behind its part, at the end of the line
+        Check.same("a cell that is too wide by its blanks alone",
+                press.print(press.pair(slim, press.broken(press.soft(), wide)), 1, 1, 0), 0);
+    }
+
+    // "GROUP: its part flat, or as it is"; "BROKEN: its first part; flat its second one"
+    private static void partsOfGroups() {
+        LayoutPress press = new LayoutPress();
+        int text = press.text(0, 2);
+        int comma = press.text(2, 1);
+        int mark = press.text(3, 5);
+        int group = press.group(press.pair(text, press.broken(press.pair(comma, press.line()), mark)));
+        press.print(group, 7, 80, 1);
+        Check.sameText("flat: the second part", Answers.lines(press), "|aaddddd");
+        press.print(group, 5, 80, 1);
+        Check.sameText("as it is: the first part", Answers.lines(press), "|aac|");
+        int inner = press.flat(press.broken(mark, press.broken(mark, text)));
+        press.print(inner, 80, 80, 1);
+        Check.sameText("a flat broken in a flat broken", Answers.lines(press), "|aa");
+        int choice = press.flat(press.choice(press.group(press.hard()), press.pair(text, press.line())));
+        press.print(choice, 80, 80, 1);
+        Check.same("a choice in a flat part tells its way, a group none", press.decisions(), 1);
+        Check.same("the way without the hard", press.wayAt(0), 1);
+    }
+
+    private static int thirty(LayoutPress press, int leaf) {
+        int row = leaf;
+        for (int i = 1; i < 30; i++) {
+            row = press.pair(row, leaf);
+        }
+        return row;
+    }
+
+    // What 30 leaves can cost by line ends, and by a width and a ribbon of 1; and PRICEs in one another
+    private static void dearest() {
+        LayoutPress press = new LayoutPress();
+        int ends = thirty(press, press.hard());
+        Check.same("30 line ends", press.print(ends, 1, 1, 100), 3000);
+        Check.same("31 lines", press.lines(), 31);
+        Check.same("30 line ends for nothing", press.print(ends, 1, 1, 0), 0);
+        LayoutPress other = new LayoutPress();
+        int signs = thirty(other, other.text(0, 20));
+        int due = 2 * 599 * 599;
+        Check.same("a line of 600", other.print(signs, 1, 1, 100), due);
+        Check.same("a line of 600 by all", other.printByAll(signs, 1, 1, 100), due);
+        Check.same("a line of 600 greedily", other.printGreedy(signs, 1, 1, 100), due);
+        LayoutPress third = new LayoutPress();
+        int dear = third.soft();
+        while (third.nodes() < 60) {
+            dear = third.price(1000, dear);
+        }
+        Check.same("59 prices", third.print(dear, 80, 80, 1), 59001);
     }
 
     private static void manyLayouts() {

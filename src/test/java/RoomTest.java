@@ -1,9 +1,11 @@
 import com.sun.management.ThreadMXBean;
 import java.lang.management.ManagementFactory;
+import java.util.Random;
 
 /** All calls of one run live in one room: dear documents, printed as often as calls are allowed. */
 public final class RoomTest {
-    private static final long MOST_ELEMENTS = 7300000;
+    // The room has 7300000; what a run makes is kept small.
+    private static final long MOST_ELEMENTS = 150000;
     private static final int MOST_CALLS = 512;
 
     private RoomTest() {
@@ -11,57 +13,72 @@ public final class RoomTest {
 
     public static void main(String[] arguments) {
         // the virtual machine makes objects of its own when a class is first used
-        small(new LayoutPress());
-        measure("small", 40000, RoomTest::small);
-        measure("many groups", 200000, RoomTest::manyGroups);
-        measure("choices of widths", 1000000, RoomTest::choicesOfWidths);
-        measure("aligned choices", 1000000, RoomTest::alignedChoices);
-        measure("nested groups", 1000000, RoomTest::nestedGroups);
-        measure("groups of choices in aligns", 2000000, RoomTest::groupsOfChoicesInAligns);
+        run(RoomTest::small, 60);
+        measure("small", 4000, RoomTest::small, MOST_CALLS);
+        measure("many groups", 4000, RoomTest::manyGroups, MOST_CALLS);
+        measure("choices of widths", 4000, RoomTest::choicesOfWidths, MOST_CALLS);
+        measure("aligned choices", MOST_ELEMENTS, RoomTest::alignedChoices, MOST_CALLS);
+        measure("nested groups", MOST_ELEMENTS, RoomTest::nestedGroups, MOST_CALLS);
+        measure("groups of choices in aligns", MOST_ELEMENTS, RoomTest::groupsOfChoicesInAligns, MOST_CALLS);
+        measure("refused nodes", MOST_ELEMENTS, RoomTest::refusedNodes, MOST_CALLS);
+        tenAligns();
+        documentsOfItsKind();
+        blocks();
         Check.end();
     }
 
-    /** A run of calls that makes nodes, the last of which is the document. */
+    /** A run of calls that makes nodes, and answers which one is the document. */
     private interface Run {
-        void make(LayoutPress press);
+        int make(LayoutPress press);
     }
 
-    private static void measure(String name, long elements, Run run) {
+    private static long measure(String name, long elements, Run run, int calls) {
         ThreadMXBean bean = (ThreadMXBean) ManagementFactory.getThreadMXBean();
         long id = Thread.currentThread().getId();
         long before = bean.getThreadAllocatedBytes(id);
+        run(run, calls);
+        // four bytes an element at the least
+        long made = (bean.getThreadAllocatedBytes(id) - before) / 4;
+        if (calls == MOST_CALLS) {
+            System.out.println(name + ": at most " + made + " elements");
+        }
+        Check.that(name + ": " + made + " elements", made <= elements);
+        return made;
+    }
+
+    private static void run(Run run, int calls) {
         LayoutPress press = new LayoutPress();
-        run.make(press);
-        int root = press.nodes() - 1;
-        for (int call = press.nodes(); call < MOST_CALLS; call++) {
+        int root = run.make(press);
+        for (int call = press.nodes(); call < calls; call++) {
             int width = 1 + call % 80;
-            if (call % 3 == 0) {
-                press.printGreedy(root, width, 81 - width, call % 101);
-            } else {
-                press.print(root, width, 1 + call * 7 % 80, call % 5);
+            int kind = call % 4;
+            try {
+                if (kind == 0) {
+                    press.printGreedy(root, width, 81 - width, call % 101);
+                } else {
+                    press.print(root, width, 1 + call * 7 % 80, kind == 1 ? 0 : call % 101);
+                }
+            } catch (IllegalStateException e) {
+                // its layouts are impossible
             }
         }
-        long bytes = bean.getThreadAllocatedBytes(id) - before;
-        // four bytes an element at the least
-        System.out.println(name + ": at most " + bytes / 4 + " elements");
-        Check.that(name + ": " + bytes / 4 + " elements", bytes / 4 <= Math.min(elements, MOST_ELEMENTS));
     }
 
-    private static void small(LayoutPress press) {
+    private static int small(LayoutPress press) {
         int text = press.text(0, 9);
-        press.group(press.pair(text, press.pair(press.line(), text)));
+        return press.group(press.pair(text, press.pair(press.line(), text)));
     }
 
-    private static void manyGroups(LayoutPress press) {
+    private static int manyGroups(LayoutPress press) {
         int gap = press.group(press.line());
         int row = press.text(0, 3);
         for (int i = 0; i < 14; i++) {
             row = press.pair(row, press.pair(gap, press.text(i, 1 + i)));
         }
-        press.align(row);
+        return press.align(row);
     }
 
-    private static void choicesOfWidths(LayoutPress press) {
+    private static int choicesOfWidths(LayoutPress press) {
         int row = press.choice(press.text(0, 1), press.text(1, 20));
         for (int i = 0; i < 13; i++) {
             row = press.pair(row, press.choice(press.text(i, 1 + i), press.pair(0, 0)));
@@ -69,10 +86,10 @@ public final class RoomTest {
                 break;
             }
         }
-        press.group(press.pair(row, press.pair(press.line(), 0)));
+        return press.group(press.pair(row, press.pair(press.line(), 0)));
     }
 
-    private static void alignedChoices(LayoutPress press) {
+    private static int alignedChoices(LayoutPress press) {
         int line = press.line();
         int inner = press.text(25, 5);
         int wide = press.nest(17, line);
@@ -81,9 +98,10 @@ public final class RoomTest {
             int level = press.pair(way, press.pair(inner, press.group(line)));
             inner = press.align(level);
         }
+        return inner;
     }
 
-    private static void nestedGroups(LayoutPress press) {
+    private static int nestedGroups(LayoutPress press) {
         int line = press.line();
         int way = press.group(press.nest(20, press.choice(press.text(0, 11), press.align(line))));
         int row = press.align(press.pair(way, press.group(press.nest(9, way))));
@@ -93,10 +111,11 @@ public final class RoomTest {
                 break;
             }
         }
+        return row;
     }
 
     // Found by looking for documents with many states: 882816 layouts
-    private static void groupsOfChoicesInAligns(LayoutPress press) {
+    private static int groupsOfChoicesInAligns(LayoutPress press) {
         int ends = press.nest(4, press.choice(press.line(), press.text(0, 19)));
         int aligned = press.align(press.choice(press.nest(1, press.text(1, 16)), ends));
         int start = press.choice(press.soft(), press.text(2, 1));
@@ -105,6 +124,59 @@ public final class RoomTest {
         int groups = press.group(press.group(group));
         int last = press.align(press.pair(press.nest(3, group), groups));
         int middle = press.align(press.pair(press.choice(start, press.group(groups)), last));
-        press.nest(6, press.pair(press.nest(3, group), middle));
+        return press.nest(6, press.pair(press.nest(3, group), middle));
+    }
+
+    private static int refusedNodes(LayoutPress press) {
+        int text = press.text(0, 1);
+        int row = text;
+        while (press.nodes() < 30) {
+            row = press.pair(row, text);
+        }
+        for (int i = 0; i < 300; i++) {
+            try {
+                press.pair(row, row);
+            } catch (IllegalStateException e) {
+                // it would be too large
+            }
+        }
+        return row;
+    }
+
+    // Issue 5: the run that it tells, with the answers that were right
+    private static void tenAligns() {
+        LayoutPress press = new LayoutPress();
+        int root = DearDocuments.tenAligns(press);
+        Check.same("size of ten aligns", press.size(root), 30);
+        Check.same("print of ten aligns", press.print(root, 80, 80, 0), 0);
+        Check.same("lines of ten aligns", press.lines(), 10);
+        Check.same("decisions of ten aligns", press.decisions(), 21);
+        measure("ten aligns", 4000, DearDocuments::tenAligns, MOST_CALLS);
+    }
+
+    private static void documentsOfItsKind() {
+        long most = 0;
+        for (int seed = 0; seed < 300; seed++) {
+            Random random = new Random(seed);
+            int calls = seed % 30 == 0 ? MOST_CALLS : 100;
+            most = Math.max(most, measure("levels by seed " + seed, MOST_ELEMENTS,
+                    press -> DearDocuments.levels(press, random), calls));
+        }
+        System.out.println("levels: at most " + most + " elements");
+    }
+
+    // More states than there is room for: they are gone through in portions
+    private static void blocks() {
+        long most = 0;
+        for (int digits = 4; digits <= 8; digits++) {
+            for (int ahead = 0; ahead <= 6; ahead += 3) {
+                int count = digits;
+                int ends = ahead;
+                most = Math.max(most, measure("blocks of " + digits + " behind " + ahead, MOST_ELEMENTS,
+                        press -> DearDocuments.blocks(press, count, ends, true), 70));
+            }
+        }
+        System.out.println("blocks: at most " + most + " elements");
+        Check.that("blocks fill the room: " + most, most > 50000);
     }
 }

@@ -28,7 +28,7 @@ public final class WildTest {
 
     private void run() {
         for (int call = 0; call < 512; call++) {
-            String before = state();
+            String before = Answers.all(press);
             int kind = random.nextInt(30);
             for (int i = 0; i < picked.length; i++) {
                 picked[i] = pick();
@@ -38,7 +38,7 @@ public final class WildTest {
             } catch (RuntimeException e) {
                 String what = name + "call " + call + " of kind " + kind;
                 Check.that(what + " throws " + e, LISTED.contains(e.getClass()));
-                Check.sameText(what + " throws and changes", state(), before);
+                Check.sameText(what + " throws and changes", Answers.all(press), before);
             }
         }
     }
@@ -49,18 +49,6 @@ public final class WildTest {
             return EDGES[random.nextInt(EDGES.length)];
         }
         return kind == 1 ? random.nextInt(90) : random.nextInt(1 + Math.max(1, press.nodes()));
-    }
-
-    private String state() {
-        StringBuilder all = new StringBuilder(Answers.of(press)).append(" nodes ").append(press.nodes());
-        try {
-            for (int line = 0; line < press.lines(); line++) {
-                all.append(' ').append(press.pageOf(line));
-            }
-        } catch (IllegalStateException e) {
-            all.append(" no pages");
-        }
-        return all.toString();
     }
 
     private void call(int kind) {
