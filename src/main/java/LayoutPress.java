@@ -875,6 +875,7 @@ public final class LayoutPress {
             link = new int[FEW];
             head = new int[FEW];
             slots = new int[FEW];
+            slotCount = FEW;
         }
 
         /** Begins with one state: the beginning of a document. */

@@ -30,6 +30,7 @@ public final class EdgesTest {
         thirtyLeaves();
         thirtyWays();
         thirtyWaysInOnePair();
+        thirtyWaysWithin();
         orderOfMakers();
         orderOfCells();
         orderOfPrintings();
@@ -286,6 +287,42 @@ public final class EdgesTest {
         int outer = groups(other, flatImpossible, 28);
         Check.same("28 groups around two choices", other.layouts(outer), 28 * 4 + 1);
         Check.refuses("29 groups around two choices", other, STATE, () -> other.group(outer));
+    }
+
+    private static int groupsAround(LayoutPress press, int part) {
+        int node = part;
+        for (int groups = 0; groups < 60; groups++) {
+            try {
+                node = press.group(node);
+            } catch (IllegalStateException e) {
+                return groups;
+            }
+        }
+        return 60;
+    }
+
+    // What a part could tell, as it is or flat, the nodes around it could tell
+    private static void thirtyWaysWithin() {
+        // a part with 10 ways, or none if it is flat; and one with 4 ways if it is flat alone
+        int[] dueAsItIs = {10, 20, 20, 19, 19, 30, 20, 20, 20, 30};
+        int[] dueFlat = {22, 26, 26, 25, 25, 26, 26, 26, 26};
+        for (int kind = FIRST_WITH_PARTS; kind < MAKERS.length; kind++) {
+            int at = kind - FIRST_WITH_PARTS;
+            LayoutPress press = new LayoutPress();
+            int ten = groups(press, press.text(0, 1), 10);
+            int around = MAKERS[kind].make(press, ten);
+            Check.same("groups around kind " + kind, groupsAround(press, around), dueAsItIs[at]);
+            LayoutPress other = new LayoutPress();
+            int text = other.text(0, 1);
+            int two = other.choice(text, other.choice(text, text));
+            int four = other.broken(text, other.pair(two, two));
+            if (at < dueFlat.length) {
+                int flatAround = MAKERS[kind].make(other, four);
+                Check.same("groups around flat kind " + kind, groupsAround(other, flatAround), dueFlat[at]);
+            } else {
+                Check.refuses("a cell with a choice in it", other, STATE, () -> other.cell(0, 0, four));
+            }
+        }
     }
 
     // "If several exceptions of a throws clause apply, the one that is listed first is thrown."

@@ -10,6 +10,7 @@ public final class LanguageTest {
             "->", "::", "\\bassert\\b", "\\bsynchronized\\b", "\\btry\\b", "\\bcatch\\b", "\\bfinally\\b", "\\brecord\\b",
             "\\bnative\\b", "\\bvolatile\\b", "\\bprotected\\b", "\\bvar\\b", "\\bObject\\b", "\\bSystem\\.(?!arraycopy)",
             "\\bstatic\\s*\\{", "\\.\\.\\.", "\\bhashCode\\b", "\\btoString\\b", "\\bMath\\.\\w+Exact\\b", "@",
+            "\\b(Integer|Long)\\.[A-Z_]+\\b",
             "\\bfloat\\b", "\\bdouble\\b", "\\bpackage\\b", "[^\\x00-\\x7e]");
     private static final List<String> EXCEPTIONS = List.of(
             "IllegalStateException", "IllegalArgumentException", "IndexOutOfBoundsException");

@@ -381,6 +381,9 @@ public final class NodesTest {
         Check.sameText("a cell is flat, blanks at its end count", Answers.lines(press), "|a za z");
         press.print(press.flat(row), 80, 80, 0);
         Check.sameText("flat cells", Answers.lines(press), "|a   zbbbbz");
+        int broken = press.cell(0, 0, press.broken(press.text(3, 9), press.pair(slim, slim)));
+        press.print(press.pair(press.pair(one, end), press.pair(broken, end)), 80, 80, 0);
+        Check.sameText("a broken in a cell has its second part", Answers.lines(press), "|a zaaz");
         press.print(press.cell(3, 4, press.group(press.nest(2, press.align(slim)))), 80, 80, 0);
         Check.same("a cell's groups tell no way", press.decisions(), 0);
         press.print(press.pair(one, two), 80, 80, 0);

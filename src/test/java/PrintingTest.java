@@ -22,6 +22,8 @@ public final class PrintingTest {
         bestByLineEnds();
         bestByWays();
         blanksCountInCosts();
+        longerLinesCanGoOnBetter();
+        pricesWithinAligns();
         blanksBehindRemarks();
         cellsThatAreNotPrinted();
         partsOfGroups();
@@ -199,6 +201,48 @@ public final class PrintingTest {
         Check.same("the price", press.wayAt(0), 0);
         Check.same("a price or a cell padded less", press.print(table2, 9, 80, 0), 1);
         Check.same("the cell", press.wayAt(0), 1);
+    }
+
+    // What a line costs already does not matter any more if signs come behind its blanks
+    private static void longerLinesCanGoOnBetter() {
+        LayoutPress press = new LayoutPress();
+        int near = press.text(0, 5);
+        int far = press.text(1, 12);
+        int tab = press.tab(40);
+        int rest = press.pair(tab, press.text(2, 1));
+        int priced = press.choice(press.price(3, near), far);
+        Check.same("a price is less than a long line", press.print(press.pair(priced, tab), 10, 80, 0), 3);
+        Check.same("the priced way", press.wayAt(0), 0);
+        Check.same("a price is more than no price", press.print(press.pair(priced, rest), 10, 80, 0), 961);
+        Check.same("the way without price", press.wayAt(0), 1);
+        int same = press.choice(far, near);
+        Check.same("a long line is more", press.print(press.pair(same, tab), 10, 80, 0), 0);
+        Check.same("the short one", press.wayAt(0), 1);
+        Check.same("both are as long", press.print(press.pair(same, rest), 10, 80, 0), 961);
+        Check.same("the first way of both", press.wayAt(0), 0);
+        // the line that begins further right is the shorter one behind a tab, if its ribbon counts
+        int shift = press.choice(press.price(1, press.tab(9)), press.tab(2));
+        int row = press.pair(shift, press.pair(near, rest));
+        Check.same("a price, or a ribbon longer by 7", press.print(row, 80, 20, 0), 145);
+        Check.same("the price", press.wayAt(0), 0);
+        Check.same("nothing, or a price", press.print(row, 80, 80, 0), 0);
+        Check.same("nothing", press.wayAt(0), 1);
+    }
+
+    // Several ways lead to the same column within an ALIGN, some of them dear: the cheap one counts
+    private static void pricesWithinAligns() {
+        LayoutPress press = new LayoutPress();
+        int hard = press.hard();
+        int one = press.text(0, 1);
+        int wide = press.pair(hard, press.text(1, 17));
+        int inner = press.align(press.choice(wide, press.price(8, press.pair(hard, one))));
+        int outer = press.pair(press.tab(10), press.pair(inner, press.pair(press.text(2, 6), press.pair(hard, one))));
+        int start = press.choice(one, press.price(8, press.text(3, 2)));
+        int real = press.pair(start, press.align(outer));
+        int other = press.price(1, press.pair(press.text(4, 20), press.pair(press.text(5, 20), press.text(6, 20))));
+        Check.same("a price of 8, or a line too long by 3", press.print(press.choice(real, other), 30, 80, 0), 8);
+        Check.sameText("its ways", Answers.of(press).replaceAll(".* ways | places.*", ""), "001");
+        Check.same("the same by all", press.printByAll(press.choice(real, other), 30, 80, 0), 8);
     }
 
     // "if a sign stands behind a remark in its line": blanks can

@@ -10,11 +10,14 @@ public final class RandomTest {
     private final Reference reference = new Reference();
     private final int[] weights = new int[KINDS.length];
 
-    // Dense documents have many layouts in which the indentations, the columns and the costs differ.
+    // Dense documents have many layouts in which the indentations, the columns and the costs differ;
+    // those with many tabs have narrow lines, and small prices for choices of their widths.
     private final boolean dense;
+    private final boolean tabs;
 
-    private RandomTest(long seed, boolean dense) {
-        this.dense = dense;
+    private RandomTest(long seed) {
+        dense = seed % 10 == 0;
+        tabs = seed % 10 == 1;
         random = new Random(seed);
         name = "seed " + seed + " ";
     }
@@ -23,7 +26,7 @@ public final class RandomTest {
         int count = arguments.length > 0 ? Integer.parseInt(arguments[0]) : 3000;
         int first = arguments.length > 1 ? Integer.parseInt(arguments[1]) : 0;
         for (int seed = first; seed < first + count; seed++) {
-            new RandomTest(seed, seed % 10 == 0).run();
+            new RandomTest(seed).run();
         }
         Check.end();
     }
@@ -38,6 +41,9 @@ public final class RandomTest {
         weights[Reference.Kind.HARD.ordinal()] = random.nextInt(3) == 0 ? 1 : 0;
         if (dense) {
             thicken(Reference.Kind.ALIGN, Reference.Kind.GROUP, Reference.Kind.LINE, Reference.Kind.CHOICE);
+        }
+        if (tabs) {
+            thicken(Reference.Kind.TAB, Reference.Kind.PRICE, Reference.Kind.CHOICE, Reference.Kind.PAIR);
         }
         int calls = dense ? 30 + random.nextInt(31) : 8 + random.nextInt(45);
         for (int i = 0; i < calls; i++) {
@@ -94,7 +100,7 @@ public final class RandomTest {
             }
             case LINE, SOFT, HARD -> {
             }
-            case TAB -> a = random.nextInt(random.nextBoolean() ? 81 : 20);
+            case TAB -> a = random.nextInt(!tabs && random.nextBoolean() ? 81 : 20);
             default -> {
                 first = randomNode();
                 second = switch (kind) {
@@ -149,7 +155,7 @@ public final class RandomTest {
 
     private void printAll(int root) {
         int node = Math.max(0, root);
-        int width = 1 + random.nextInt(random.nextBoolean() ? 80 : 25);
+        int width = 1 + random.nextInt(!tabs && random.nextBoolean() ? 80 : 25);
         int ribbon = 1 + random.nextInt(random.nextBoolean() ? 80 : 15);
         int price = random.nextInt(random.nextBoolean() ? 101 : 4);
         String what = name + "node " + node + " by " + width + " " + ribbon + " " + price + " ";

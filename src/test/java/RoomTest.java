@@ -147,6 +147,7 @@ public final class RoomTest {
     private static void tenAligns() {
         LayoutPress press = new LayoutPress();
         int root = DearDocuments.tenAligns(press);
+        Check.same("node of ten aligns", root, 43);
         Check.same("size of ten aligns", press.size(root), 30);
         Check.same("print of ten aligns", press.print(root, 80, 80, 0), 0);
         Check.same("lines of ten aligns", press.lines(), 10);

@@ -29,7 +29,7 @@ public final class SmallRoomTest {
             compile(place, room);
             Check.sameText("dear documents in a room of " + room,
                     run(place, "DearDocuments", String.valueOf(DOCUMENTS)), whole);
-            String answers = run(place, "RandomTest", "1000", String.valueOf(100000 * room));
+            String answers = run(place, "RandomTest", "600", String.valueOf(100000 * room));
             Check.that("documents by chance in a room of " + room + ": " + answers, answers.endsWith(" 0 wrong\n"));
             remove(place);
         }
