@@ -823,6 +823,98 @@ public final class LayoutPress {
     }
 
     /**
+     * Ways that are held: where there is no room for all layouts at once, they are searched in parts,
+     * in each of which some places take one way only. Within an ALIGN the places are counted from
+     * its beginning, and held for themselves.
+     */
+    private static final class Held {
+        private static final int MOST_LEVELS = MOST_NODES + 1;
+        private static final int MOST_HELD = 256;
+
+        private int level;
+        // Of each level, as bits: which places are held, and those of them that take the second way.
+        private final int[] places;
+        private final int[] ways;
+        // The places of all levels as they were held, and where those of each level begin.
+        private final int[] order;
+        private final int[] begins;
+        private int count;
+
+        Held() {
+            places = new int[MOST_LEVELS];
+            ways = new int[MOST_LEVELS];
+            order = new int[MOST_HELD];
+            begins = new int[MOST_LEVELS];
+        }
+
+        /** Begins with the document, nothing held. */
+        void begin() {
+            level = 0;
+            count = 0;
+            places[level] = 0;
+            ways[level] = 0;
+            begins[level] = 0;
+        }
+
+        /** Goes into an ALIGN, nothing held there. */
+        void enter() {
+            if (level < MOST_LEVELS - 1) {
+                level++;
+                places[level] = 0;
+                ways[level] = 0;
+                begins[level] = count;
+            }
+        }
+
+        void leave() {
+            count = begins[level];
+            level = Math.max(0, level - 1);
+        }
+
+        /** Whether a way can be taken at a place. */
+        boolean allows(int place, int way) {
+            int bit = wayBit(place);
+            return (places[level] & bit) == 0 || (way == SECOND) == ((ways[level] & bit) != 0);
+        }
+
+        /** Whether so many ways can be told around the ALIGN. */
+        boolean allowsOutside(int toldWays, int told) {
+            int outside = Math.max(0, level - 1);
+            int taken = told > 0 ? -wayBit(told - 1) : 0;
+            return ((toldWays ^ ways[outside]) & places[outside] & taken) == 0;
+        }
+
+        boolean isHeld(int place) {
+            return (places[level] & wayBit(place)) != 0;
+        }
+
+        /** Holds a place: for the next part its first way. Returns whether it can be. */
+        boolean hold(int place) {
+            if (place < 0 || place >= MOST_WAYS || count >= MOST_HELD) {
+                return false;
+            }
+            places[level] = places[level] | wayBit(place);
+            order[count] = place;
+            count++;
+            return true;
+        }
+
+        /** Goes on to the next part. Returns whether there is one. */
+        boolean goOn() {
+            while (count > begins[level] && (ways[level] & wayBit(order[count - 1])) != 0) {
+                count--;
+                places[level] = places[level] ^ wayBit(order[count]);
+                ways[level] = ways[level] ^ wayBit(order[count]);
+            }
+            boolean isAhead = count > begins[level];
+            if (isAhead) {
+                ways[level] = ways[level] | wayBit(order[count - 1]);
+            }
+            return isAhead;
+        }
+    }
+
+    /**
      * Printings that have come to the same place of a document, as rows of a stack. At an ALIGN
      * they wait, as their indentations do not matter within it: for all that stand in the same
      * line one state goes on, that counts its weight and ways from there. So ALIGNs in one another
@@ -837,7 +929,9 @@ public final class LayoutPress {
         private static final int DOCUMENT = 0;
         private static final int START = 1;
 
+        private final Held held;
         private int top;
+        // Once it is full, nothing is changed until some states are given up.
         private boolean isFull;
         // What weighs more is dropped; of that the least weight is kept.
         private long limit;
@@ -862,7 +956,8 @@ public final class LayoutPress {
         private int[] slots;
         private int slotCount;
 
-        States() {
+        States(Held held) {
+            this.held = held;
             around = new int[FEW];
             column = new int[FEW];
             first = new int[FEW];
@@ -977,14 +1072,15 @@ public final class LayoutPress {
             return waiting < 0 || waiting >= column.length ? 0 : column[waiting];
         }
 
-        /** Puts copies of the states from one up to another one on top. */
-        void repeat(int from, int until) {
-            if (!hasRoom(until - from)) {
-                return;
-            }
-            for (int i = from; i < until; i++) {
-                copyState(i, top);
-                top++;
+        /** Puts on top how the states from one up to another one go on if they take a way. */
+        void branch(int from, int until, int way) {
+            for (int i = from; i < until && !isFull; i++) {
+                if (held.allows(told[i], way) && hasRoom(1)) {
+                    copyState(i, top);
+                    ways[top] = way == SECOND ? ways[i] | wayBit(told[i]) : ways[i];
+                    told[top]++;
+                    top++;
+                }
             }
         }
 
@@ -996,15 +1092,6 @@ public final class LayoutPress {
                 target++;
             }
             top = target;
-        }
-
-        void tell(int from, int way) {
-            for (int i = from; i < top; i++) {
-                if (way == SECOND) {
-                    ways[i] = ways[i] | wayBit(told[i]);
-                }
-                told[i]++;
-            }
         }
 
         void addCost(int at, long cost) {
@@ -1189,9 +1276,43 @@ public final class LayoutPress {
             weight[top] = weight[waiting] + weight[other];
             ways[top] = ways[waiting] | ways[other] >> told[waiting];
             told[top] = told[waiting] + told[other];
-            if (!isHeavy(top)) {
+            if (held.allowsOutside(ways[top], told[top]) && !isHeavy(top)) {
                 keepTop(tabs);
             }
+        }
+
+        /** The state that waits at the ALIGN around another one. */
+        int waitingFor(int at) {
+            return at < 0 || at >= top || at >= around.length ? NONE : around[at];
+        }
+
+        /**
+         * The place, of those that are not held, at which the states from one on that go on for a
+         * waiting one are best parted: NONE if all take the same ways.
+         */
+        int placeToHold(int from, int waiting) {
+            int best = NONE;
+            int bestCount = 0;
+            for (int place = 0; place < MOST_WAYS; place++) {
+                int count = held.isHeld(place) ? 0 : countLess(place, from, waiting);
+                if (count > bestCount) {
+                    best = place;
+                    bestCount = count;
+                }
+            }
+            return best;
+        }
+
+        /** How many of them take the way that fewer of them take at a place. */
+        private int countLess(int place, int from, int waiting) {
+            int firstWays = 0;
+            int secondWays = 0;
+            for (int i = from; i < top; i++) {
+                boolean isTold = around[i] == waiting && told[i] > place;
+                firstWays += isTold && wayIn(ways[i], place) == FIRST ? 1 : 0;
+                secondWays += isTold && wayIn(ways[i], place) == SECOND ? 1 : 0;
+            }
+            return Math.min(firstWays, secondWays);
         }
 
         /** Gives up the states from one on, so that there is room for another try. */
@@ -1209,18 +1330,15 @@ public final class LayoutPress {
 
         private final Terms terms;
         private final States states;
-        // The ways that all layouts take in the present part of the search, and how many of them
-        // were taken. As long as not all are, there is just one state.
-        private int plan;
-        private int planned;
-        private int taken;
+        private final Held held;
         private boolean hasFound;
         private int bestWays;
         private int bestTold;
 
         Search(Terms terms) {
             this.terms = terms;
-            this.states = new States();
+            this.held = new Held();
+            this.states = new States(held);
         }
 
         /**
@@ -1243,45 +1361,34 @@ public final class LayoutPress {
             return hasFound;
         }
 
-        /** Searches all layouts, or, if they are too many at once, parts that begin with the same ways. */
+        /** Searches all layouts, or, if there is no room for all at once, parts that some ways are held for. */
         private void searchInParts(Node root) {
             boolean isAhead = true;
-            plan = 0;
-            planned = 0;
+            held.begin();
             for (int part = 0; part < MOST_PARTS && isAhead; part++) {
-                taken = 0;
                 states.begin();
                 advance(root, false, 0, 0, States.START, 0);
-                if (states.isFull && planned < MOST_WAYS) {
-                    planned++;
-                } else {
+                if (!states.isFull || !held.hold(states.placeToHold(States.START, States.DOCUMENT))) {
                     keepBest();
-                    isAhead = planNextPart();
+                    isAhead = held.goOn();
                 }
             }
         }
 
-        /** Whether there is a part behind the present one. */
-        private boolean planNextPart() {
-            while (planned > 0 && wayIn(plan, planned - 1) == SECOND) {
-                planned--;
-                plan = plan ^ wayBit(planned);
-            }
-            if (planned > 0) {
-                plan = plan | wayBit(planned - 1);
-            }
-            return planned > 0;
-        }
-
-        /** Keeps the best layout, if there is one; those of later parts must weigh less. */
+        /** Keeps the best layout of a part, if there is one that is better than those of the parts ahead. */
         private void keepBest() {
             // No sign comes behind the document: all states were alike, and the best one is left.
-            boolean isLeft = !states.isFull && states.top > States.START;
-            if (isLeft && states.weight[States.START] <= states.limit) {
+            if (states.isFull || states.top <= States.START) {
+                return;
+            }
+            long weight = states.weight[States.START];
+            int ways = states.ways[States.START];
+            boolean isBetter = !hasFound || weight < states.limit || ways < bestWays;
+            if (weight <= states.limit && isBetter) {
                 hasFound = true;
-                bestWays = states.ways[States.START];
+                bestWays = ways;
                 bestTold = states.told[States.START];
-                states.limit = states.weight[States.START] - 1;
+                states.limit = weight;
             }
         }
 
@@ -1350,60 +1457,70 @@ public final class LayoutPress {
             }
         }
 
-        /** Takes the states from one on through an ALIGN: all at once or, if there is no room, in portions. */
+        /**
+         * Takes the states from one on through an ALIGN: all at once or, if there is no room, in
+         * portions, and one state alone in parts that some ways are held for.
+         */
         private void passAlign(Node part, int shift, int behind, int from, int depth) {
             int until = states.top;
             int begin = from;
             int most = until - from;
             states.waitAtAlign(from);
-            for (int turn = 0; turn < States.MOST_STATES && begin < until && most > 0; turn++) {
+            held.enter();
+            for (int turn = 0; turn < MOST_PARTS && begin < until && most > 0; turn++) {
                 int inside = states.top;
                 int end = states.enterAlign(begin, until, most);
                 int entered = states.top - inside;
+                int waiting = states.waitingFor(inside);
                 advance(part, false, shift, behind, inside, depth + 1);
                 states.leaveAlign(from, until, begin, end - 1, inside, (behind & Node.TABS) != 0);
                 if (!states.isFull) {
                     settle(behind, until);
-                    begin = end;
+                    begin = held.goOn() ? begin : end;
                 } else if (entered > 1) {
                     states.giveUp(inside);
                     most = entered / 2;
+                } else if (hasRoomInside(inside) && held.hold(states.placeToHold(inside, waiting))) {
+                    states.giveUp(inside);
                 } else {
                     most = 0;
                 }
             }
-            states.slide(until, from);
+            held.leave();
+            if (!states.isFull) {
+                states.slide(until, from);
+            }
+        }
+
+        /** Whether there is enough room in an ALIGN; if not, what is around is too much. */
+        private static boolean hasRoomInside(int inside) {
+            return inside < States.MOST_STATES / 4 * 3;
         }
 
         private void fork(Node node, boolean flat, int shift, int behind, int from, int depth) {
             if (node.kind == Kind.GROUP && flat) {
                 advance(node.first, true, shift, behind, from, depth + 1);
-            } else if (taken < planned) {
-                int way = wayIn(plan, taken);
-                taken++;
-                takeWay(node, way, flat, shift, behind, from, depth);
-            } else {
-                int until = states.top;
-                states.repeat(from, until);
-                takeWay(node, FIRST, flat, shift, behind, until, depth);
-                int middle = from + states.top - until;
-                states.repeat(from, until);
-                // The states that came here are above once more: their first place can be used again.
+                return;
+            }
+            boolean isGroup = node.kind == Kind.GROUP;
+            int until = states.top;
+            states.branch(from, until, FIRST);
+            advance(node.first, flat || isGroup, shift, behind, until, depth + 1);
+            int middle = from + states.top - until;
+            states.branch(from, until, SECOND);
+            if (!states.isFull) {
+                // The states that came here are above, as they go on: their first place can be used again.
                 states.slide(until, from);
-                takeWay(node, SECOND, flat, shift, behind, middle, depth);
+                advance(isGroup ? node.first : node.second, flat, shift, behind, middle, depth + 1);
                 settle(behind, from);
             }
         }
 
-        private void takeWay(Node node, int way, boolean flat, int shift, int behind, int from, int depth) {
-            boolean isGroup = node.kind == Kind.GROUP;
-            Node part = isGroup || way == FIRST ? node.first : node.second;
-            states.tell(from, way);
-            advance(part, flat || isGroup && way == FIRST, shift, behind, from, depth + 1);
-        }
-
         /** Drops, of the states from one on, those that are needless or too dear. */
         private void settle(int behind, int from) {
+            if (states.isFull) {
+                return;
+            }
             if ((behind & Node.SIGNS) == 0) {
                 states.forgetLines(from);
             }
