@@ -1266,7 +1266,9 @@ public final class LayoutPress {
                     other = link[other];
                 }
             }
-            slide(outside, inside);
+            if (!isFull) {
+                slide(outside, inside);
+            }
         }
 
         /** Puts on top how a state that waited goes on, as another one went through the ALIGN for it. */

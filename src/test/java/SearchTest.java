@@ -8,6 +8,7 @@ public final class SearchTest {
 
     public static void main(String[] arguments) {
         linesOfOtherAligns();
+        manyLinesOfOtherAligns();
         remarksAtAligns();
         longLinesAtAligns();
         ribbonsAtAligns();
@@ -25,19 +26,45 @@ public final class SearchTest {
     private static void linesOfOtherAligns() {
         for (boolean dearAhead : new boolean[] {true, false}) {
             LayoutPress press = new LayoutPress();
-            int dear = press.price(500, press.text(0, 3));
+            int dear = press.price(7, press.text(0, 3));
             int cheap = press.text(0, 5);
             int head = dearAhead ? press.choice(dear, cheap) : press.choice(cheap, dear);
             int line = press.line();
-            int inner = press.align(press.pair(press.text(1, 1), line));
+            int inner = press.align(press.price(5, press.pair(press.text(1, 1), line)));
             int outer = press.align(press.nest(-20, press.pair(press.hard(), press.pair(inner, line))));
-            int real = press.price(10, press.pair(head, outer));
-            for (int other = 9; other <= 12; other++) {
+            int real = press.price(1, press.pair(head, outer));
+            for (int other = 4; other <= 9; other++) {
                 int root = press.choice(press.price(other, press.text(2, 1)), real);
-                Check.same("a price of " + other + " or of 10", press.print(root, 80, 80, 0), Math.min(other, 10));
-                Check.same("its way beside " + other, press.wayAt(0), other <= 10 ? 0 : 1);
-                Check.same("the same by all", press.printByAll(root, 80, 80, 0), Math.min(other, 10));
+                Check.same("a price of " + other + " or of 6", press.print(root, 80, 80, 0), Math.min(other, 6));
+                Check.same("its way beside " + other, press.wayAt(0), other <= 6 ? 0 : 1);
+                Check.same("the same by all", press.printByAll(root, 80, 80, 0), Math.min(other, 6));
             }
+        }
+    }
+
+    // The same with four layouts in all orders, of which each may be the best one behind the ALIGN
+    private static void manyLinesOfOtherAligns() {
+        int[] prices = {9, 7, 3, 0};
+        for (int order = 0; order < 256; order++) {
+            int[] picked = {order & 3, order >> 2 & 3, order >> 4 & 3, order >> 6};
+            LayoutPress press = new LayoutPress();
+            int line = press.line();
+            int head = -1;
+            int least = 9;
+            for (int pick : picked) {
+                int way = press.price(prices[pick], press.text(pick, 2 + pick));
+                head = head < 0 ? way : press.choice(head, way);
+                least = Math.min(least, prices[pick]);
+            }
+            int inner = press.align(press.price(5, press.pair(press.text(5, 1), line)));
+            int outer = press.align(press.nest(-20, press.pair(press.hard(), press.pair(inner, press.pair(line, line)))));
+            int last = press.pair(press.text(6, 3), outer);
+            int root = press.pair(head, press.align(press.pair(last, press.pair(line, press.text(7, 1)))));
+            int due = press.printByAll(root, 9, 9, 0);
+            String ways = waysOf(press);
+            Check.same("order " + order, press.print(root, 9, 9, 0), due);
+            Check.sameText("ways of order " + order, waysOf(press), ways);
+            Check.same("the least price of order " + order, due, least + 5);
         }
     }
 
@@ -64,37 +91,49 @@ public final class SearchTest {
 
     // Two lines as wide, of which one ends with a blank, cost something else as they stand
     private static void longLinesAtAligns() {
-        for (boolean blankAhead : new boolean[] {true, false}) {
-            LayoutPress press = new LayoutPress();
-            int line = press.line();
-            int blank = press.price(2, press.pair(press.text(0, 3), press.flat(line)));
-            int word = press.text(0, 4);
-            int head = blankAhead ? press.choice(blank, word) : press.choice(word, blank);
-            int signs = press.align(press.pair(press.text(1, 1), line));
-            Check.same("five signs by 1", press.print(press.pair(head, signs), 1, 80, 0), 16);
-            Check.same("the word of four", press.wayAt(0), blankAhead ? 1 : 0);
-            int ends = press.align(press.pair(line, press.align(press.pair(press.text(1, 1), line))));
-            Check.same("a line of its own by 1", press.print(press.pair(head, ends), 1, 80, 0), 6 + 16);
-            Check.same("the word of three", press.wayAt(0), blankAhead ? 0 : 1);
+        for (int letters = 3; letters <= 12; letters++) {
+            longLinesAtAligns(letters, true);
+            longLinesAtAligns(letters, false);
         }
+    }
+
+    private static void longLinesAtAligns(int letters, boolean blankAhead) {
+        LayoutPress press = new LayoutPress();
+        int line = press.line();
+        int blank = press.price(2, press.pair(press.text(0, letters), press.flat(line)));
+        int word = press.text(0, letters + 1);
+        int head = blankAhead ? press.choice(blank, word) : press.choice(word, blank);
+        int sign = press.pair(press.text(1, 1), line);
+        int longest = (letters + 1) * (letters + 1);
+        Check.same("a sign more by 1", press.print(press.pair(head, press.align(sign)), 1, 80, 0), longest);
+        Check.same("the longer word", press.wayAt(0), blankAhead ? 1 : 0);
+        int ends = press.align(press.pair(line, press.align(sign)));
+        int shorter = 2 + (letters - 1) * (letters - 1);
+        Check.same("a line of its own by 1", press.print(press.pair(head, ends), 1, 80, 0), shorter + longest);
+        Check.same("the shorter word", press.wayAt(0), blankAhead ? 0 : 1);
     }
 
     // Two lines as wide that begin elsewhere: one is longer than the ribbon when signs come
     private static void ribbonsAtAligns() {
-        for (boolean longAhead : new boolean[] {true, false}) {
-            LayoutPress press = new LayoutPress();
-            int line = press.line();
-            int longer = press.text(0, 6);
-            int shorter = press.price(3, press.pair(press.flat(line), press.text(0, 5)));
-            int head = longAhead ? press.choice(longer, shorter) : press.choice(shorter, longer);
-            int signs = press.align(press.pair(press.text(1, 2), line));
-            Check.same("beyond the ribbon by 1, and 3, or by 2", press.print(press.pair(head, signs), 80, 6, 0), 4);
-            Check.same("either costs 4: the first way", press.wayAt(0), 0);
-            Check.same("beyond the ribbon by 3, or by 2, and 3", press.print(press.pair(head, signs), 80, 5, 0), 7);
-            Check.same("the shorter one", press.wayAt(0), longAhead ? 1 : 0);
-            Check.same("beyond the ribbon by none, and 3, or by 1", press.print(press.pair(head, signs), 80, 7, 0), 1);
-            Check.same("the longer one", press.wayAt(0), longAhead ? 0 : 1);
+        for (int letters = 3; letters <= 12; letters++) {
+            ribbonsAtAligns(letters, true);
+            ribbonsAtAligns(letters, false);
         }
+    }
+
+    private static void ribbonsAtAligns(int letters, boolean longAhead) {
+        LayoutPress press = new LayoutPress();
+        int line = press.line();
+        int longer = press.text(0, letters + 1);
+        int shorter = press.price(3, press.pair(press.flat(line), press.text(0, letters)));
+        int head = longAhead ? press.choice(longer, shorter) : press.choice(shorter, longer);
+        int row = press.pair(head, press.align(press.pair(press.text(1, 2), line)));
+        Check.same("beyond the ribbon by 2, or by 1 for 3", press.print(row, 80, letters + 1, 0), 4);
+        Check.same("either costs 4: the first way", press.wayAt(0), 0);
+        Check.same("beyond the ribbon by 3, or by 2 for 3", press.print(row, 80, letters, 0), 7);
+        Check.same("the shorter one", press.wayAt(0), longAhead ? 1 : 0);
+        Check.same("beyond the ribbon by 1, or by none for 3", press.print(row, 80, letters + 2, 0), 1);
+        Check.same("the longer one", press.wayAt(0), longAhead ? 0 : 1);
     }
 
     private static int groups(LayoutPress press, int part, int count) {

@@ -31,6 +31,8 @@ public final class SmallRoomTest {
                     run(place, "DearDocuments", String.valueOf(DOCUMENTS)), whole);
             String answers = run(place, "RandomTest", "600", String.valueOf(100000 * room));
             Check.that("documents by chance in a room of " + room + ": " + answers, answers.endsWith(" 0 wrong\n"));
+            String parts = run(place, "PartsTest");
+            Check.that("parts in a room of " + room + ": " + parts, parts.endsWith(" 0 wrong\n"));
             remove(place);
         }
         Check.end();
@@ -43,7 +45,7 @@ public final class SmallRoomTest {
         Path source = place.resolve("LayoutPress.java");
         Files.writeString(source, small);
         List<String> options = new ArrayList<>(List.of("-d", place.toString(), source.toString()));
-        for (String name : List.of("DearDocuments", "RandomTest", "Reference", "Answers", "Check")) {
+        for (String name : List.of("DearDocuments", "PartsTest", "RandomTest", "Reference", "Answers", "Check")) {
             options.add("src/test/java/" + name + ".java");
         }
         int failed = ToolProvider.getSystemJavaCompiler().run(null, null, null, options.toArray(new String[0]));
